@@ -313,7 +313,9 @@ public final class InternetHouse {
         static final int LINKED = 15;
         static final int OUTER = 16;
         static final int LEASE = 17;
-        static final int NAMED = 18;
+        static final int QUESTION = 18;
+        static final int ANSWER = 22;
+        static final int STEPS = 23;
         static final int TUNNEL = 19;
         static final int PEER_IDLE = 20;
         static final int FLOOD = 21;
@@ -324,6 +326,7 @@ public final class InternetHouse {
         static final int CUT = 6;
         static final int ENDS = 7;
         static final int CAPTURE = 9;
+        static final int STOCK = 256;
 
         int time;
         int chance;
@@ -337,12 +340,19 @@ public final class InternetHouse {
         Buf jobs;
         Buf cursor;
         Buf free;
+        int freeCount;
+        /** Stands in where no row is left, which stockUp does not let happen; what is put there is lost. */
+        final Buf spare = new Buf(164);
         final Socket[] sockets = new Socket[32];
         int socketCount;
         /** How many LINES FRAMES go over from one PORT to each other one; -1: they do not come there. */
         final int[] reach = new int[48];
         final int[] queue = new int[48];
         final int[] dist = new int[12];
+
+        World() {
+            stockUp();
+        }
 
         void beginAnew(int seed) {
             dropCopies(-1);
@@ -403,12 +413,23 @@ public final class InternetHouse {
             return s;
         }
 
+        /** Sees to it that there are rows for the next job: none makes more than 200. */
+        private void stockUp() {
+            for (int i = freeCount; i < STOCK; i++) {
+                Buf b = new Buf(164);
+                b.next = free;
+                free = b;
+            }
+            freeCount = Math.max(freeCount, STOCK);
+        }
+
         Buf fetch() {
             Buf b = free;
             if (b == null) {
-                b = new Buf(164);
+                b = spare;
             } else {
                 free = b.next;
+                freeCount--;
             }
             b.next = null;
             b.len = 0;
@@ -419,18 +440,21 @@ public final class InternetHouse {
         }
 
         void release(Buf b) {
-            b.next = free;
-            free = b;
+            if (b != spare) {
+                b.next = free;
+                free = b;
+                freeCount++;
+            }
         }
 
         /** A new job, behind those that the one that runs now has made, ahead of all others. */
         Buf make(int job, int node) {
             Buf b = free;
             if (b == null) {
-                b = new Buf(164);
-            } else {
-                free = b.next;
+                return spare;
             }
+            free = b.next;
+            freeCount--;
             b.job = job;
             b.node = node;
             b.len = 0;
@@ -457,11 +481,6 @@ public final class InternetHouse {
                 cursor.next = b;
             }
             cursor = b;
-        }
-
-        void runUnits(int n) {
-            make(UNIT, -1).x = n;
-            drain();
         }
 
         /** Does all jobs. */
@@ -500,13 +519,18 @@ public final class InternetHouse {
                     case LINKED: n.link.come(j); break;
                     case OUTER: n.outer.come(j); break;
                     case LEASE: n.ports[j.port & 3].leaseIn(j); break;
-                    case NAMED: n.names.come(j); break;
+                    case QUESTION: n.names.reply(j); break;
+                    case ANSWER: n.names.comeAnswer(j); break;
+                    case STEPS: n.names.steps(j.x); break;
                     case TUNNEL: n.guard.unwrap(j); break;
                     case PEER_IDLE: n.outer.idle(j.x); break;
                     case FLOOD: n.link.flood(j.x, j.y, j.via); break;
                     default: break;
                 }
                 release(j);
+                if (freeCount < STOCK) {
+                    stockUp();
+                }
             }
             cursor = null;
         }
@@ -678,7 +702,7 @@ public final class InternetHouse {
             while (head < tail && head < 48 && seenOut < 1000) {
                 seenOut++;
                 Port x = portAt(queue[head]);
-                int far = x == null || !whole(x.line) ? -1 : x.far;
+                int far = x == null || !x.whole ? -1 : x.far;
                 int lines = head == 0 ? 1 : reach[queue[head]] + 1;
                 head++;
                 if (far < 0 || far > 47 || reach[far] >= 0) {
@@ -919,6 +943,7 @@ public final class InternetHouse {
         final Node n;
         final int number;
         int line;
+        boolean whole;
         int far;
         int address;
         int bits;
@@ -947,6 +972,7 @@ public final class InternetHouse {
         /** As at first. */
         void reset() {
             line = -1;
+            whole = false;
             far = -1;
             address = 0;
             bits = 0;
@@ -996,8 +1022,9 @@ public final class InternetHouse {
             }
         }
 
+        /** Whether it has an ADDRESS and a LINE that is whole. */
         boolean live() {
-            return bits > 0 && w.whole(line);
+            return bits > 0 && whole;
         }
 
         int index() {
@@ -1223,7 +1250,7 @@ public final class InternetHouse {
             if (sched[FILL] > 0) {
                 sched[TOKENS] = Math.min(sched[BUCKET], sched[TOKENS] + sched[FILL]);
             }
-            if (!w.whole(line) || busy > w.time) {
+            if (!whole || busy > w.time) {
                 return null;
             }
             int c = heads[3] != null ? 3 : chooseClass();
@@ -2258,7 +2285,7 @@ public final class InternetHouse {
                 case 89: again(p, World.LINKED); break;
                 case 79: again(p, World.OUTER); break;
                 case 67: again(p, World.LEASE); break;
-                case 53: again(p, World.NAMED); break;
+                case 53: again(p, p.u8(HEAD) == 0 ? World.QUESTION : World.ANSWER); break;
                 case 4: again(p, World.TUNNEL); break;
                 case 50: again(p, World.TUNNEL); break;
                 default: break;
@@ -3737,7 +3764,10 @@ public final class InternetHouse {
         /** All PEERS are IDLE. */
         void clear() {
             for (int r = 0; r < peers.count; r++) {
-                idle(r);
+                peers.put(r, STATE, 0);
+                peers.put(r, UNDER, 0);
+                peers.put(r, SENT, 0);
+                peers.put(r, TAKEN, 0);
             }
             heard.count = 0;
             told.count = 0;
@@ -3955,32 +3985,25 @@ public final class InternetHouse {
             return r + 1;
         }
 
+        /** Tells a PEER the first NET that it is to be told otherwise than it was TOLD: which PEER is next. */
         int tellClock(int r) {
             if (system == 0 || r >= peers.count) {
                 return -1;
             }
-            if (peers.get(r, STATE) == 2) {
-                if (peers.get(r, UNDER) == 0) {
-                    startTelling(r);
-                } else if (w.time - peers.get(r, UNDER_TIME) >= 10) {
+            if (peers.get(r, STATE) != 2) {
+                return r + 1;
+            }
+            if (peers.get(r, UNDER) != 0) {
+                if (w.time - peers.get(r, UNDER_TIME) >= 10) {
                     transmit(r);
                 }
+                return r + 1;
             }
-            return r + 1;
-        }
-
-        /** Finds the first NET that a PEER is to be told otherwise than it was TOLD, and sends it. */
-        private void startTelling(int r) {
             int who = peers.get(r, 0);
             selfTo = n.fromFor(who);
-            int back = -1;
-            for (int t = 0; t < told.count; t++) {
-                if (told.get(t, 0) == who && chosen.findPair(NET, told.get(t, NET), told.get(t, BITS)) < 0
-                        && (back < 0 || isBefore(told, t, told, back))) {
-                    back = t;
-                }
-            }
-            for (int c = 0; c < chosen.count; c++) {
+            int back = firstBack(who);
+            boolean found = false;
+            for (int c = 0; c < chosen.count && !found; c++) {
                 if (back >= 0 && isBefore(told, back, chosen, c)) {
                     break;
                 }
@@ -3988,16 +4011,32 @@ public final class InternetHouse {
                 int t = rowOf(told, who, chosen.get(c, NET), chosen.get(c, BITS));
                 if (wanted && !sameAsWork(t)) {
                     startUnder(r, 1, work, 0);
-                    return;
-                }
-                if (!wanted && t >= 0) {
+                    found = true;
+                } else if (!wanted && t >= 0) {
                     back = t;
                     break;
                 }
             }
-            if (back >= 0) {
+            if (!found && back >= 0) {
                 startUnder(r, 2, told, back);
+                found = true;
             }
+            if (found) {
+                transmit(r);
+            }
+            return r + 1;
+        }
+
+        /** The first NET that a PEER was TOLD and for which nothing is CHOSEN; -1: none. */
+        private int firstBack(int who) {
+            int back = -1;
+            for (int t = 0; t < told.count; t++) {
+                if (told.get(t, 0) == who && chosen.findPair(NET, told.get(t, NET), told.get(t, BITS)) < 0
+                        && (back < 0 || isBefore(told, t, told, back))) {
+                    back = t;
+                }
+            }
+            return back;
         }
 
         private boolean isBefore(Table t, int r, Table u, int q) {
@@ -4019,7 +4058,6 @@ public final class InternetHouse {
             int u = under.insert(under.count);
             under.copyRow(u, from, q);
             under.put(u, 0, peers.get(r, 0));
-            transmit(r);
         }
 
         /** Sends what is under way to a PEER. */
@@ -4675,7 +4713,13 @@ public final class InternetHouse {
                 sendAck();
                 return;
             }
-            thanks(ack, l, p.u16(HEAD + 14));
+            int done = ack - v[UNA];
+            if (done > 0) {
+                thankedFor(ack, done);
+            } else if (done == 0 && l == 0 && p.u16(HEAD + 14) == v[FAR_WINDOW] && v[NEXT] - v[UNA] > 0) {
+                thankedAgain();
+            }
+            settle(ack, p.u16(HEAD + 14));
             if (state == CLOSED) {
                 return;
             }
@@ -4688,23 +4732,22 @@ public final class InternetHouse {
             push();
         }
 
-        /** What the ACK of a SEGMENT of LENGTH l says. */
-        private void thanks(int ack, int l, int wide) {
-            int done = ack - v[UNA];
-            if (done > 0) {
-                thankedFor(ack, done);
-            } else if (done == 0 && l == 0 && wide == v[FAR_WINDOW] && v[NEXT] - v[UNA] > 0) {
-                v[DUPS]++;
-                if (v[DUPS] == 3) {
-                    v[EDGE] = Math.max(96, (v[NEXT] - v[UNA]) / 2);
-                    v[RECOVER] = v[MOST];
-                    resend(v[UNA]);
-                    v[TRIP_FROM] = -1;
-                    v[CARE] = Math.min(400, v[EDGE] + 144);
-                } else if (v[DUPS] > 3) {
-                    v[CARE] = Math.min(400, v[CARE] + 48);
-                }
+        /** An ACK that thanks for nothing new. */
+        private void thankedAgain() {
+            v[DUPS]++;
+            if (v[DUPS] == 3) {
+                v[EDGE] = Math.max(96, (v[NEXT] - v[UNA]) / 2);
+                v[RECOVER] = v[MOST];
+                resend(v[UNA]);
+                v[TRIP_FROM] = -1;
+                v[CARE] = Math.min(400, v[EDGE] + 144);
+            } else if (v[DUPS] > 3) {
+                v[CARE] = Math.min(400, v[CARE] + 48);
             }
+        }
+
+        /** FAR WINDOW, and what becomes of a FIN that is thanked for. */
+        private void settle(int ack, int wide) {
             if (v[UNA] - ack <= 0) {
                 v[FAR_WINDOW] = wide;
             }
@@ -4929,25 +4972,24 @@ public final class InternetHouse {
             return many == 0 ? 1 : many - 1;
         }
 
-        /** Puts the letters of a NAME behind what is in b. */
+        /** Puts the letters of a NAME behind what is in b, its lowest LABEL first. */
         static void writeName(Buf b, Table t, int r, int c) {
-            int many = lengthOf(t, r, c);
-            if (t.at(r, c) == 0) {
-                b.a8('.');
-                return;
-            }
-            for (int i = 0; i < many; i++) {
-                b.a8('.');
-            }
-            int at = b.len;
-            for (int i = 0; i < 4 && t.at(r, c + i) != 0; i++) {
-                long x = t.at(r, c + i);
-                for (int k = 0; k < 8 && x > 0; k++) {
-                    at--;
-                    b.p8(at, letterOf((int) (x % 64)));
-                    x /= 64;
+            boolean first = true;
+            for (int i = 3; i >= 0; i--) {
+                long label = t.at(r, c + i);
+                if (label != 0 && !first) {
+                    b.a8('.');
                 }
-                at--;
+                first = first && label == 0;
+                for (int k = 42; k >= 0; k -= 6) {
+                    int code = (int) (label >> k & 63);
+                    if (code > 0) {
+                        b.a8(letterOf(code));
+                    }
+                }
+            }
+            if (first) {
+                b.a8('.');
             }
         }
 
@@ -4984,33 +5026,28 @@ public final class InternetHouse {
             }
         }
 
-        /** A PACKET of NAMES that was TAKEN. */
-        void come(Buf p) {
-            if (p.u8(HEAD) == 0 && zones.count > 0 && p.len >= HEAD + 5 && p.len == HEAD + 5 + p.u8(HEAD + 4)
-                    && readName(p, HEAD + 5, p.u8(HEAD + 4), false, parsed) >= 0) {
-                for (int i = 0; i < 4; i++) {
-                    sought.put(0, i, parsed[i]);
-                }
-                reply(p);
-            } else if (p.u8(HEAD) == 1 && root != 0 && p.u8(HEAD + 3) <= 4 && rightAnswer(p)) {
-                for (int q = 0; q < 4; q++) {
-                    if (questions.get(q, STATE) == 1 && questions.get(q, SERVER) == p.u32(10)
-                            && questions.get(q, NUMBER) == p.u16(HEAD + 1)) {
-                        answered(q, p.u8(HEAD + 3));
-                        return;
-                    }
-                }
-            }
-        }
-
         // ZONES
 
-        private void reply(Buf p) {
+        /** A QUESTION that was TAKEN. */
+        void reply(Buf p) {
+            int many = p.u8(HEAD + 4);
+            if (zones.count == 0 || p.len < HEAD + 5 || p.len != HEAD + 5 + many
+                    || readName(p, HEAD + 5, many, false, parsed) < 0) {
+                return;
+            }
+            for (int i = 0; i < 4; i++) {
+                sought.put(0, i, parsed[i]);
+            }
             Buf a = n.own(53, p.u32(10));
             a.a8(1);
             a.a16(p.u16(HEAD + 1));
             a.a8(4);
             a.a8(0);
+            tellAnswer(a, p.u8(HEAD + 3));
+        }
+
+        /** CODE and ROWS of the ANSWER for the NAME in sought and a KIND. */
+        private void tellAnswer(Buf a, int kind) {
             int z = -1;
             for (int i = 0; i < zones.count; i++) {
                 if (isIn(sought, 0, 0, zones, i, 0) && (z < 0 || labels(zones, i, 0) > labels(zones, z, 0))) {
@@ -5026,7 +5063,7 @@ public final class InternetHouse {
                 return;
             }
             copyName(sought, 1, 0, sought, 0, 0);
-            if (tellRows(a, z, p.u8(HEAD + 3))) {
+            if (tellRows(a, z, kind)) {
                 return;
             }
             boolean below = false;
@@ -5035,7 +5072,7 @@ public final class InternetHouse {
             }
             int many = labels(sought, 0, 0);
             sought.put(1, many - 1, 38);
-            if (!below && many > 0 && tellRows(a, z, p.u8(HEAD + 3))) {
+            if (!below && many > 0 && tellRows(a, z, kind)) {
                 return;
             }
             tellNo(a, z, below ? 2 : 1);
@@ -5138,6 +5175,20 @@ public final class InternetHouse {
 
         // RESOLVING
 
+        /** An ANSWER that was TAKEN. */
+        void comeAnswer(Buf p) {
+            if (p.u8(HEAD) != 1 || root == 0 || p.u8(HEAD + 3) > 4 || !rightAnswer(p)) {
+                return;
+            }
+            for (int q = 0; q < 4; q++) {
+                if (questions.get(q, STATE) == 1 && questions.get(q, SERVER) == p.u32(10)
+                        && questions.get(q, NUMBER) == p.u16(HEAD + 1)) {
+                    answered(q, p.u8(HEAD + 3));
+                    return;
+                }
+            }
+        }
+
         /** Whether an ANSWER's ROWS are right; they are in came then. */
         private boolean rightAnswer(Buf p) {
             if (p.len < HEAD + 5) {
@@ -5205,7 +5256,7 @@ public final class InternetHouse {
             } else if (code == 4 || code == 3 && !further) {
                 finish(q, FAILED);
             } else {
-                steps(q);
+                w.make(World.STEPS, n.num).x = q;
             }
         }
 
@@ -5265,7 +5316,7 @@ public final class InternetHouse {
             return q;
         }
 
-        private void steps(int q) {
+        void steps(int q) {
             int kind = questions.get(q, KIND);
             for (int i = 0; i < 8; i++) {
                 if (cached(0, kind, questions, q, 0) >= 0) {
@@ -5753,8 +5804,10 @@ public final class InternetHouse {
         w.lines.put(l, World.ENDS, p);
         w.lines.put(l, World.ENDS + 1, q);
         x.line = l;
+        x.whole = true;
         x.far = q;
         y.line = l;
+        y.whole = true;
         y.far = p;
         x.n.stale = true;
         y.n.stale = true;
@@ -5783,6 +5836,7 @@ public final class InternetHouse {
                 Port p = w.portAt(w.lines.get(line, World.ENDS + i));
                 if (p != null) {
                     p.busy = 0;
+                    p.whole = v == 0;
                     p.n.stale = true;
                 }
             }
@@ -5978,7 +6032,8 @@ public final class InternetHouse {
 
     public int run(int n) throws IllegalArgumentException {
         argument(within(n, 1, 40));
-        w.runUnits(n);
+        w.make(World.UNIT, -1).x = n;
+        w.drain();
         return w.time;
     }
 
@@ -6021,7 +6076,7 @@ public final class InternetHouse {
             case 1: return g.forwards(i) ? 1 : 0;
             case 2: return g.root;
             case 3: return g.rootCost;
-            default: return what - 4 < g.learned.count && g.learned.get(what - 4, 1) == i ? g.learned.get(what - 4, 0) : 0;
+            default: return g.learned.get(what - 4, 1) == i ? g.learned.get(what - 4, 0) : 0;
         }
     }
 
