@@ -1764,9 +1764,6 @@ public final class InternetHouse {
         Node(World w, int num) {
             this.w = w;
             this.num = num;
-            for (int i = 0; i < 4; i++) {
-                ports[i] = new Port(w, this, 4 * num + i);
-            }
         }
 
         /** As at first, of a kind. */
@@ -1778,6 +1775,9 @@ public final class InternetHouse {
             echoes = 0;
             for (int i = 0; i < 10; i++) {
                 counts[i] = 0;
+            }
+            for (int i = 0; i < 4 && ports[i] == null; i++) {
+                ports[i] = new Port(w, this, 4 * num + i);
             }
             if (bridge == null && kind == BRIDGE) {
                 bridge = new Bridge(w, this);
@@ -1862,9 +1862,9 @@ public final class InternetHouse {
             stale = false;
             if (kind != BRIDGE) {
                 ways.rebuild();
-                link.rebuild(ways.all);
+                link.rebuild();
                 ways.addDistance();
-                outer.rebuild(ways.all);
+                outer.rebuild();
             }
         }
 
@@ -3575,7 +3575,7 @@ public final class InternetHouse {
         }
 
         /** What is FOUND anew, and put to all WAYS as those of KIND 2. */
-        void rebuild(Table all) {
+        void rebuild() {
             foundWays.count = 0;
             foundPlain.count = 0;
             for (int area = 0; area < 4 && on; area++) {
@@ -4168,7 +4168,7 @@ public final class InternetHouse {
         }
 
         /** What is CHOSEN anew, and put to all WAYS as those of KIND 4. */
-        void rebuild(Table all) {
+        void rebuild() {
             chosen.count = 0;
             if (system == 0) {
                 return;
