@@ -316,6 +316,7 @@ public final class InternetHouse {
         static final int QUESTION = 18;
         static final int ANSWER = 22;
         static final int STEPS = 23;
+        static final int HEARD = 24;
         static final int TUNNEL = 19;
         static final int PEER_IDLE = 20;
         static final int FLOOD = 21;
@@ -524,6 +525,7 @@ public final class InternetHouse {
                     case STEPS: n.names.steps(j.x); break;
                     case TUNNEL: n.guard.unwrap(j); break;
                     case PEER_IDLE: n.outer.idle(j.x); break;
+                    case HEARD: n.outer.hear(j); break;
                     case FLOOD: n.link.flood(j.x, j.y, j.via); break;
                     default: break;
                 }
@@ -925,6 +927,8 @@ public final class InternetHouse {
         static final int FILL = 7;
         static final int BUCKET = 8;
         static final int TOKENS = 9;
+        static final int TRIAL = 10;
+        static final int TRIAL_TURN = 13;
         static final int HAS = 0;
         static final int TILL = 1;
         static final int LAST = 2;
@@ -951,10 +955,8 @@ public final class InternetHouse {
         int cost;
         int area;
         final Buf[] heads = new Buf[4];
-        final Buf[] tails = new Buf[4];
-        final int[] rows = new int[4];
-        final int[] sched = new int[10];
-        final int[] trial = new int[4];
+        /** QUANTA, then what the constants say, then DEFICITS and TURN as a search would leave them. */
+        final int[] sched = new int[14];
         final Buf[] seenOnes = new Buf[4];
         final Table found = new Table(3, 8);
         final Table waits = new Table(4, 4);
@@ -1034,32 +1036,30 @@ public final class InternetHouse {
         private Buf unrow(int c) {
             Buf f = heads[c];
             heads[c] = f.next;
-            if (heads[c] == null) {
-                tails[c] = null;
-            }
             f.next = null;
-            rows[c]--;
             return f;
         }
 
         /** Puts a FRAME (without CHECK) into the ROW of its CLASS; it is this PORT's from then on. */
         void enqueue(Buf f) {
             int c = f.u8(2) == 3 && f.len > 3 ? f.u8(3) & 3 : 3;
-            if (line < 0 || rows[c] >= 8) {
+            Buf last = null;
+            int many = 0;
+            for (Buf g = heads[c]; g != null && many < 8; g = g.next) {
+                last = g;
+                many++;
+            }
+            f.next = null;
+            if (line < 0 || many >= 8) {
                 if (line >= 0) {
                     n.counts[3]++;
                 }
                 w.release(f);
-                return;
-            }
-            f.next = null;
-            if (tails[c] == null) {
+            } else if (last == null) {
                 heads[c] = f;
             } else {
-                tails[c].next = f;
+                last.next = f;
             }
-            tails[c] = f;
-            rows[c]++;
         }
 
         /** A FRAME that ARRIVES. */
@@ -1265,33 +1265,33 @@ public final class InternetHouse {
             }
             if (c < 3) {
                 for (int i = 0; i < 4; i++) {
-                    sched[DEFICIT + i] = trial[i];
+                    sched[DEFICIT + i] = sched[TRIAL + i];
                 }
             }
             n.counts[0]++;
             return unrow(c);
         }
 
-        /** The CLASS of 0 to 2 that goes next (-1: none); what DEFICITS and TURN are then is in trial. */
+        /** The CLASS of 0 to 2 that goes next (-1: none); what DEFICITS and TURN are then is behind TRIAL. */
         private int chooseClass() {
             if (heads[0] == null && heads[1] == null && heads[2] == null) {
                 return -1;
             }
             for (int i = 0; i < 4; i++) {
-                trial[i] = sched[DEFICIT + i];
+                sched[TRIAL + i] = sched[DEFICIT + i];
             }
             for (int i = 0; i < 2000; i++) {
-                int c = trial[3];
+                int c = sched[TRIAL_TURN] % 3;
                 Buf f = heads[c];
                 if (f == null) {
-                    trial[c] = 0;
-                } else if (f.len + 2 <= trial[c]) {
-                    trial[c] -= f.len + 2;
+                    sched[TRIAL + c] = 0;
+                } else if (f.len + 2 <= sched[TRIAL + c]) {
+                    sched[TRIAL + c] -= f.len + 2;
                     return c;
                 }
                 c = (c + 1) % 3;
-                trial[3] = c;
-                trial[c] += sched[c];
+                sched[TRIAL_TURN] = c;
+                sched[TRIAL + c] += sched[c];
             }
             return -1;
         }
@@ -1735,6 +1735,9 @@ public final class InternetHouse {
     /** A NODE: what every HOST and ROUTER does with PACKETS. */
     private static final class Node {
         static final int PARTS = 14;
+        static final int NAME = 10;
+        static final int ERRORS = 11;
+        static final int ECHOS = 12;
 
         final World w;
         final int num;
@@ -1742,12 +1745,8 @@ public final class InternetHouse {
         boolean up;
         boolean stale;
         final Port[] ports = new Port[4];
-        final int[] counts = new int[10];
-        int name;
-        int errors;
-        int echoes;
+        final int[] counts = new int[13];
         Buf inside;
-        int insideCount;
         final Table joins = new Table(8, 4);
         final Buf[] joinBytes = new Buf[4];
         final Table paths = new Table(3, 4);
@@ -1771,9 +1770,7 @@ public final class InternetHouse {
             kind = ofKind;
             up = true;
             stale = true;
-            name = 0;
-            echoes = 0;
-            for (int i = 0; i < 10; i++) {
+            for (int i = 0; i < counts.length; i++) {
                 counts[i] = 0;
             }
             for (int i = 0; i < 4 && ports[i] == null; i++) {
@@ -1814,7 +1811,7 @@ public final class InternetHouse {
 
         /** All that goes when it goes down. */
         void clear() {
-            errors = 6;
+            counts[ERRORS] = 6;
             stale = true;
             members.count = 0;
             paths.count = 0;
@@ -1824,7 +1821,6 @@ public final class InternetHouse {
                 inside = b.next;
                 w.release(b);
             }
-            insideCount = 0;
             for (int i = 0; i < 4; i++) {
                 ports[i].clear();
                 if (ports[i].borrow[Port.ON] == 1) {
@@ -1921,7 +1917,7 @@ public final class InternetHouse {
                     case 0: sub = insideClock(); break;
                     case 1: sub = waitsClock(sub); break;
                     case 2: sub = joinsClock(); break;
-                    case 3: errors = Math.min(6, errors + 1); sub = -1; break;
+                    case 3: counts[ERRORS] = Math.min(6, counts[ERRORS] + 1); sub = -1; break;
                     case 4: sub = ways.clock(); break;
                     case 5: sub = link.helloClock(); break;
                     case 6: sub = link.ownClock(sub); break;
@@ -1951,7 +1947,6 @@ public final class InternetHouse {
         private int insideClock() {
             Buf b = inside;
             inside = null;
-            insideCount = 0;
             for (int i = 0; i < 9 && b != null; i++) {
                 Buf after = b.next;
                 b.next = null;
@@ -2059,8 +2054,8 @@ public final class InternetHouse {
 
         private void seal(Buf p) {
             p.p8(2, p.len);
-            p.p16(4, name);
-            name = name + 1 & 65535;
+            p.p16(4, counts[NAME]);
+            counts[NAME] = counts[NAME] + 1 & 65535;
             p.p16(8, p.sum(0, HEAD, 8));
         }
 
@@ -2086,21 +2081,22 @@ public final class InternetHouse {
         }
 
         private void putInside(Buf p) {
-            if (insideCount >= 8) {
+            Buf last = null;
+            int many = 0;
+            for (Buf g = inside; g != null && many < 8; g = g.next) {
+                last = g;
+                many++;
+            }
+            if (many >= 8) {
                 return;
             }
             Buf b = w.fetch();
             b.append(p, 0, p.len);
-            Buf last = inside;
-            for (int i = 0; i < 9 && last != null && last.next != null; i++) {
-                last = last.next;
-            }
             if (last == null) {
                 inside = b;
             } else {
                 last.next = b;
             }
-            insideCount++;
         }
 
         /** A PACKET goes by THE WAY that was found last. */
@@ -2166,10 +2162,11 @@ public final class InternetHouse {
         void tell(Buf p, int type, int code, int size) {
             int from = p.u32(10);
             boolean oneself = p.u8(1) == 1 && p.len > HEAD && (p.u8(HEAD) == 3 || p.u8(HEAD) == 11);
-            if (from == 0 || isMany(from) || isMany(p.u32(14)) || (p.u8(6) & 31) != 0 || oneself || errors <= 0) {
+            if (from == 0 || isMany(from) || isMany(p.u32(14)) || (p.u8(6) & 31) != 0 || oneself
+                    || counts[ERRORS] <= 0) {
                 return;
             }
-            errors--;
+            counts[ERRORS]--;
             Buf c = own(1, from);
             c.a8(type);
             c.a8(code);
@@ -2520,8 +2517,8 @@ public final class InternetHouse {
 
         /** SENDS an ECHO: its first NUMBER. */
         int sendEcho(int to, int bytes, int hops) {
-            int number = echoes & 65535;
-            echoes++;
+            int number = counts[ECHOS];
+            counts[ECHOS] = number + 1 & 65535;
             Buf p = own(1, to);
             p.p8(3, hops);
             p.a8(8);
@@ -3901,19 +3898,26 @@ public final class InternetHouse {
                     && isNet(p.u32(HEAD + 3), p.u8(HEAD + 7));
         }
 
-        /** TELL or TAKE BACK. */
+        /** TELL or TAKE BACK: THANKS go first, by WAYS as they were. */
         private void toldHere(int r, Buf p) {
             if (peers.get(r, STATE) != 2) {
                 return;
             }
             int number = p.u16(HEAD + 1);
             message(r, 5).a16(number);
-            if (number == peers.get(r, TAKEN)) {
-                return;
+            if (number != peers.get(r, TAKEN)) {
+                peers.put(r, TAKEN, number);
+                Buf j = w.make(World.HEARD, n.num);
+                j.append(p, 0, p.len);
+                j.x = r;
             }
-            peers.put(r, TAKEN, number);
-            n.stale = true;
+        }
+
+        /** What a PEER (x) told is taken. */
+        void hear(Buf p) {
+            int r = p.x;
             int who = peers.get(r, 0);
+            n.stale = true;
             int h = rowOf(heard, who, p.u32(HEAD + 3), p.u8(HEAD + 7));
             if (p.u8(HEAD) == 4) {
                 heard.remove(h);
@@ -6432,8 +6436,8 @@ public final class InternetHouse {
             case 2: return x.link.on ? 1 : 0;
             case 3: return x.outer.system;
             case 4: return x.names.root;
-            case 5: return x.errors;
-            case 6: return x.name;
+            case 5: return x.counts[Node.ERRORS];
+            case 6: return x.counts[Node.NAME];
             default: return x.guard.outside;
         }
     }
