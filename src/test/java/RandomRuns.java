@@ -18,6 +18,7 @@ public final class RandomRuns {
     private final InternetHouse x = new InternetHouse();
     private final InternetHouse y = new InternetHouse();
     private int nodes;
+    private static long digest;
 
     private RandomRuns(long seed) {
         r = new Random(seed);
@@ -207,6 +208,7 @@ public final class RandomRuns {
         if (g != answer(y, m, a)) {
             throw new RuntimeException("call " + m + " differs");
         }
+        digest = 31 * digest + g;
         return g;
     }
 
@@ -323,7 +325,7 @@ public final class RandomRuns {
                 }
             }
         }
-        System.out.println(wrong == 0 ? many + " random runs are right" : wrong + " random runs are not");
+        System.out.println(wrong == 0 ? many + " random runs are right, digest " + digest : wrong + " random runs are not");
         if (wrong != 0) {
             System.exit(1);
         }
