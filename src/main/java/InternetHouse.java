@@ -327,7 +327,7 @@ public final class InternetHouse {
         static final int CUT = 6;
         static final int ENDS = 7;
         static final int CAPTURE = 9;
-        static final int STOCK = 256;
+        static final int STOCK = 64;
 
         int time;
         int chance;
@@ -414,7 +414,7 @@ public final class InternetHouse {
             return s;
         }
 
-        /** Sees to it that there are rows for the next job: none makes more than 200. */
+        /** Sees to it that there are rows for the next job: none makes as many as that. */
         private void stockUp() {
             for (int i = freeCount; i < STOCK; i++) {
                 Buf b = new Buf(164);
@@ -493,11 +493,7 @@ public final class InternetHouse {
                 cursor = null;
                 Node n = nodeAt(j.node);
                 if (n == null) {
-                    if (j.job == UNIT) {
-                        unit(j.x);
-                    } else {
-                        sends();
-                    }
+                    unit(j.x);
                     release(j);
                     continue;
                 }
@@ -505,6 +501,7 @@ public final class InternetHouse {
                     n.freshen();
                 }
                 switch (j.job) {
+                    case SENDS: sends(n); break;
                     case FRAME: n.ports[j.port & 3].arrive(j); break;
                     case CLOCK: n.clock(j); break;
                     case COME: n.comeIn(j); break;
@@ -557,7 +554,11 @@ public final class InternetHouse {
                     make(CLOCK, i);
                 }
             }
-            make(SENDS, -1);
+            for (int i = 0; i < nodeCount; i++) {
+                if (nodes[i].up) {
+                    make(SENDS, i);
+                }
+            }
             if (left > 1) {
                 make(UNIT, -1).x = left - 1;
             }
@@ -592,16 +593,14 @@ public final class InternetHouse {
             }
         }
 
-        private void sends() {
-            for (int i = 0; i < nodeCount; i++) {
-                for (int k = 0; k < 4 && nodes[i].up; k++) {
-                    Port p = nodes[i].ports[k];
-                    Buf f = p.nextFrame();
-                    if (f != null) {
-                        f.a16(f.check(f.len));
-                        launch(p, f);
-                        p.keepSeen(f);
-                    }
+        private void sends(Node n) {
+            for (int k = 0; k < 4; k++) {
+                Port p = n.ports[k];
+                Buf f = p.nextFrame();
+                if (f != null) {
+                    f.a16(f.check(f.len));
+                    launch(p, f);
+                    p.keepSeen(f);
                 }
             }
         }
@@ -1921,7 +1920,7 @@ public final class InternetHouse {
                     case 4: sub = ways.clock(); break;
                     case 5: sub = link.helloClock(); break;
                     case 6: sub = link.ownClock(sub); break;
-                    case 7: sub = link.owedClock(); break;
+                    case 7: sub = link.owedClock(sub); break;
                     case 8: sub = outer.peerClock(sub); break;
                     case 9: sub = outer.tellClock(sub); break;
                     case 10: sub = socketsClock(sub); break;
@@ -3334,24 +3333,23 @@ public final class InternetHouse {
             neighbours.put(r, OWED_TIME + id, w.time);
         }
 
-        int owedClock() {
-            for (int r = 0; r < neighbours.count && on; r++) {
-                Port q = n.ports[neighbours.get(r, 0) & 3];
-                for (int id = 0; id < 12; id++) {
-                    int number = neighbours.get(r, OWED + id);
-                    Buf row = rowAt(q.area, id);
-                    if (number == 0) {
-                        continue;
-                    }
-                    if (row == null || row.u32(0) != number) {
-                        neighbours.put(r, OWED + id, 0);
-                    } else if (w.time - neighbours.get(r, OWED_TIME + id) >= 10 && q.live()) {
-                        sendRow(r, q.area, id);
-                        owe(r, q.area, id);
-                    }
+        /** What one NEIGHBOUR OWES at CLOCK: which is next. */
+        int owedClock(int r) {
+            if (!on || r >= neighbours.count) {
+                return -1;
+            }
+            Port q = n.ports[neighbours.get(r, 0) & 3];
+            for (int id = 0; id < 12; id++) {
+                int number = neighbours.get(r, OWED + id);
+                Buf row = rowAt(q.area, id);
+                if (number != 0 && (row == null || row.u32(0) != number)) {
+                    neighbours.put(r, OWED + id, 0);
+                } else if (number != 0 && w.time - neighbours.get(r, OWED_TIME + id) >= 10 && q.live()) {
+                    sendRow(r, q.area, id);
+                    owe(r, q.area, id);
                 }
             }
-            return -1;
+            return r + 1;
         }
 
         /** A PACKET of LINK that was TAKEN. */
