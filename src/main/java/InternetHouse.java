@@ -511,7 +511,12 @@ public final class InternetHouse {
                     case ON: n.passOn(j); break;
                     case CONTROL: n.control(j); break;
                     case STREAM: n.streamIn(j); break;
-                    case SEGMENT: sockets[j.x & 31].segment(j); break;
+                    case SEGMENT:
+                        Socket s = socketAt(j.x);
+                        if (s != null) {
+                            s.segment(j);
+                        }
+                        break;
                     case DATAGRAM: n.datagramIn(j); break;
                     case DISTANCE: n.ways.comeDistance(j); break;
                     case LINKED: n.link.come(j); break;

@@ -3,7 +3,8 @@ import java.util.Random;
 
 /**
  * Random runs of up to 512 calls: no call may throw anything but what its promise names, audit is
- * always 0, and the same calls always give the same answers (a second object runs beside the first).
+ * always 0, and the same calls always give the same answers: a second object, that was used for another
+ * run before and is begun anew, runs beside the first.
  */
 public final class RandomRuns {
     private static final String[] TEXTS = {
@@ -16,12 +17,23 @@ public final class RandomRuns {
     };
     private final Random r;
     private final InternetHouse x = new InternetHouse();
-    private final InternetHouse y = new InternetHouse();
+    private final InternetHouse y;
     private int nodes;
     private static long digest;
 
-    private RandomRuns(long seed) {
+    private RandomRuns(long seed, InternetHouse used) {
         r = new Random(seed);
+        y = used;
+    }
+
+    private void go(int steps) {
+        setUp();
+        for (int k = 0; k < steps; k++) {
+            step();
+        }
+        if (x.audit() != 0) {
+            throw new RuntimeException("audit");
+        }
     }
 
     private int pick(int... of) {
@@ -308,15 +320,10 @@ public final class RandomRuns {
         int many = args.length > 1 ? Integer.parseInt(args[1]) : 150;
         int wrong = 0;
         for (int i = from; i < from + many; i++) {
-            RandomRuns q = new RandomRuns(i);
             try {
-                q.setUp();
-                for (int k = 0; k < 350; k++) {
-                    q.step();
-                }
-                if (q.x.audit() != 0) {
-                    throw new RuntimeException("audit");
-                }
+                InternetHouse used = new InternetHouse();
+                new RandomRuns(-1 - i, used).go(150);
+                new RandomRuns(i, used).go(350);
             } catch (RuntimeException e) {
                 wrong++;
                 System.out.println("seed " + i + ": " + e);
