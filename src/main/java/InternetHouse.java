@@ -313,14 +313,17 @@ public final class InternetHouse {
         static final int LINKED = 15;
         static final int OUTER = 16;
         static final int LEASE = 17;
-        static final int QUESTION = 18;
-        static final int ANSWER = 22;
-        static final int STEPS = 23;
-        static final int HEARD = 24;
-        static final int TUNNEL = 19;
-        static final int PEER_IDLE = 20;
-        static final int FLOOD = 21;
+        static final int TUNNEL = 18;
+        static final int QUESTION = 19;
+        static final int ANSWER = 20;
+        static final int STEPS = 21;
+        static final int PEER_IDLE = 22;
+        static final int HEARD = 23;
+        static final int FLOOD = 24;
 
+        static final int LOST = 0;
+        static final int SPOILT = 1;
+        static final int TWICE = 2;
         static final int DELAY = 3;
         static final int RATE = 4;
         static final int SIZE = 5;
@@ -615,16 +618,16 @@ public final class InternetHouse {
             int rate = Math.max(1, lines.get(line, RATE));
             p.busy = time + (f.len + rate - 1) / rate;
             takeDown(p, f);
-            int lost = lines.get(line, 0);
+            int lost = lines.get(line, LOST);
             if (lost != 0 && draw() % 256 < lost) {
                 return;
             }
-            int spoilt = lines.get(line, 1);
+            int spoilt = lines.get(line, SPOILT);
             int turned = -1;
             if (spoilt != 0 && draw() % 256 < spoilt) {
                 turned = draw();
             }
-            int twice = lines.get(line, 2);
+            int twice = lines.get(line, TWICE);
             boolean second = twice != 0 && draw() % 256 < twice;
             int at = p.busy + lines.get(line, DELAY);
             addCopy(p, f, turned, at);

@@ -116,6 +116,11 @@ public final class GuardsTest {
         Due.is("inner", A1, () -> x.look(1, 11, 0, 1));
         Due.is("its port", 9, () -> x.look(1, 11, 0, 2));
         Due.is("outer", 40000, () -> x.look(1, 11, 0, 3));
+        Due.feed(x, "ho");
+        x.write(s);
+        x.run(6);
+        Due.is("the same PAIR", 8, () -> x.read(t, 9));
+        Due.outIs("the same PAIR", x, "\n\0\1\1" + (char) 156 + "@ho");
         x.connect(t, B1, 40000);
         Due.feed(x, "yes");
         x.write(t);
@@ -131,7 +136,7 @@ public final class GuardsTest {
         }
         Due.is("8 PAIRS", 40006, () -> x.look(1, 11, 7, 3));
         Due.missing("8 PAIRS", () -> x.look(1, 11, 8, 3));
-        Due.is("those without a PAIR are not counted", 1 + 1 + 2 + 6, () -> x.count(1, 8));
+        Due.is("those without a PAIR are not counted", 2 + 1 + 2 + 6, () -> x.count(1, 8));
         x.run(40);
         x.run(11);
         Due.missing("old ones are gone", () -> x.look(1, 11, 0, 3));

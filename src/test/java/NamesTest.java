@@ -149,6 +149,34 @@ public final class NamesTest {
         Due.state("down", () -> x.ask(1, 1));
     }
 
+    /** ANSWERS that are too long for one PACKET, and a NODE without a ZONE for the NAME. */
+    private static void fullAnswers() {
+        InternetHouse x = star();
+        x.address(4, A1, 24);
+        x.address(8, A2, 24);
+        StringBuilder text = new StringBuilder("zone a 100\n");
+        for (int i = 0; i < 7; i++) {
+            text.append("b.a 50 text ").append(i).append("\n");
+        }
+        for (int i = 0; i < 4; i++) {
+            text.append("cccccccc.bbbbbbbb.aaaaaaaa.a 50 alias dddddddd.cccccccc.bbbbbbbb.aaaaaaa").append(i).append("\n");
+        }
+        Due.feed(x, text.toString());
+        Due.is("ROWS", 11, () -> x.load(2, 2));
+        x.set(1, 15, A2, 0, 0);
+        ask(x, "b.a", 4, 0);
+        ask(x, "cccccccc.bbbbbbbb.aaaaaaaa.a", 3, 1);
+        ask(x, "z", 1, 2);
+        x.run(40);
+        Due.is("5 ROWS", 0, () -> x.answer(1, 0, 4));
+        Due.outIs("the fifth", x, "\0\0\0\4");
+        Due.is("not six", -3, () -> x.answer(1, 0, 5));
+        // 5 bytes, then 4 + 28 + 36 each: one fits into 130.
+        Due.is("one ROW of 68 bytes", 0, () -> x.answer(1, 1, 0));
+        Due.is("not two", -3, () -> x.answer(1, 1, 1));
+        Due.is("no ZONE: FAILED", 3, () -> x.answer(1, 2, 0));
+    }
+
     private static void leases() {
         InternetHouse x = star();
         x.address(4, A1, 24);
@@ -200,6 +228,7 @@ public final class NamesTest {
     public static void main(String[] args) {
         zoneTexts();
         resolve();
+        fullAnswers();
         leases();
         Due.end("NamesTest");
     }
