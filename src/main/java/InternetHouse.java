@@ -3764,7 +3764,7 @@ public final class InternetHouse {
             policy.count = 0;
         }
 
-        /** All PEERS are IDLE. */
+        /** All PEERS are IDLE, and their NUMBERS as at first. */
         void clear() {
             for (int r = 0; r < peers.count; r++) {
                 peers.put(r, STATE, 0);
@@ -3781,7 +3781,10 @@ public final class InternetHouse {
 
         void setSystem(int s) {
             system = s;
-            clear();
+            for (int r = 0; r < peers.count; r++) {
+                idle(r);
+            }
+            n.stale = true;
         }
 
         void setPeer(int who, int s) {
@@ -3798,6 +3801,8 @@ public final class InternetHouse {
                 peers.put(r, 0, who);
                 peers.put(r, 1, s);
                 peers.put(r, NODE, 0);
+                peers.put(r, SENT, 0);
+                peers.put(r, TAKEN, 0);
             }
         }
 
@@ -3813,8 +3818,6 @@ public final class InternetHouse {
             dropOf(told, who);
             dropOf(under, who);
             peers.put(r, UNDER, 0);
-            peers.put(r, SENT, 0);
-            peers.put(r, TAKEN, 0);
             n.stale = true;
         }
 
