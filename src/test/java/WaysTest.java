@@ -265,6 +265,41 @@ public final class WaysTest {
         Due.is("IDLE", 0, () -> x.look(1, 6, 1, 2));
     }
 
+    /** Seven SYSTEMS; OPENS that cross make PEERS UP anew, and yet all learn the shortest ways. */
+    private static void crossingOpens() {
+        InternetHouse x = new InternetHouse();
+        for (int i = 0; i < 7; i++) {
+            x.node(2);
+            x.set(i, 8, 100 + i, 0, 0);
+            x.set(i, 10, Due.a(50 + i, 0, 0, 0), 8, 1);
+        }
+        int[][] lines = {{4, 1}, {0, 1}, {6, 5}, {0, 5}, {6, 4}, {4, 2}, {2, 5}, {2, 3}, {0, 6}};
+        int[] used = new int[7];
+        for (int i = 0; i < lines.length; i++) {
+            int a = lines[i][0];
+            int b = lines[i][1];
+            int p = 4 * a + used[a]++;
+            int q = 4 * b + used[b]++;
+            x.line(p, q, 1 + i % 2, 255, 148);
+            x.address(p, net(i) + 1, 24);
+            x.address(q, net(i) + 2, 24);
+            x.set(a, 9, net(i) + 2, 100 + b, 0);
+            x.set(b, 9, net(i) + 1, 100 + a, 0);
+        }
+        runs(x, 200);
+        int[][] far = {
+            {0, 1, 2, 3, 2, 1, 1}, {1, 0, 2, 3, 1, 2, 2}, {2, 2, 0, 1, 1, 1, 2}, {3, 3, 1, 0, 2, 2, 3},
+            {2, 1, 1, 2, 0, 2, 1}, {1, 2, 1, 2, 2, 0, 1}, {1, 2, 2, 3, 1, 1, 0},
+        };
+        for (int i = 0; i < 7; i++) {
+            for (int k = 0; k < 7; k++) {
+                int a = i;
+                int b = k;
+                Due.is("SYSTEMS from " + a + " to " + b, far[a][b], () -> x.look(a, 7, b, 4));
+            }
+        }
+    }
+
     private static long policy(InternetHouse x, String text) {
         Due.feed(x, text);
         return x.load(0, 1);
@@ -323,6 +358,7 @@ public final class WaysTest {
         link();
         areas();
         outer();
+        crossingOpens();
         policies();
         down();
         Due.end("WaysTest");
