@@ -2373,7 +2373,6 @@ public final class InternetHouse {
                 t.port = p.port;
                 t.p8(2, t.len);
                 t.p8(6, 0);
-                t.p16(8, t.sum(0, HEAD, 8));
                 dropJoin(r);
             }
         }
