@@ -210,6 +210,16 @@ public final class InternetHouse {
             }
         }
 
+        /** The first six numbers of a row, as far as it is wide. */
+        void fill(int r, long a, long b, long c, long d, long e, long f) {
+            if (r < 0 || r >= count) {
+                return;
+            }
+            for (int k = 0; k < width && k < 6; k++) {
+                cells[r * width + k] = k == 0 ? a : k == 1 ? b : k == 2 ? c : k == 3 ? d : k == 4 ? e : f;
+            }
+        }
+
         /** A new row of 0 at place r, those from there on one further: r, or -1 without room. */
         int insert(int r) {
             if (count >= most || r < 0 || r > count) {
@@ -1134,9 +1144,7 @@ public final class InternetHouse {
                 }
                 r = found.insert(found.count);
             }
-            found.put(r, 0, who);
-            found.put(r, 1, link);
-            found.put(r, 2, w.time);
+            found.fill(r, who, link, w.time, 0, 0, 0);
             waits.remove(waits.find(0, who));
             for (int i = 0; i < 4; i++) {
                 Buf p = unhold(who);
@@ -2269,9 +2277,7 @@ public final class InternetHouse {
             if (r < 0) {
                 r = members.insert(members.count);
             }
-            members.put(r, 0, port);
-            members.put(r, 1, g);
-            members.put(r, 2, w.time);
+            members.fill(r, port, g, w.time, 0, 0, 0);
         }
 
         /** A PACKET is TAKEN: a piece is JOINED, a whole one handed over by its PROTOCOL. */
@@ -2403,11 +2409,7 @@ public final class InternetHouse {
                 echoed.remove(0);
             }
             int r = echoed.insert(echoed.count);
-            echoed.put(r, 0, number);
-            echoed.put(r, 1, type);
-            echoed.put(r, 2, code);
-            echoed.put(r, 3, from);
-            echoed.put(r, 4, w.time);
+            echoed.fill(r, number, type, code, from, w.time, 0);
         }
 
         /** A CONTROL 3 or 11 that tells of a PACKET of this NODE, which is quoted from byte 26 on. */
@@ -2447,9 +2449,7 @@ public final class InternetHouse {
                 }
                 r = paths.insert(paths.count);
             }
-            paths.put(r, 0, far);
-            paths.put(r, 1, size);
-            paths.put(r, 2, w.time + 100);
+            paths.fill(r, far, size, w.time + 100, 0, 0, 0);
         }
 
         /** A DATAGRAM that was TAKEN. */
@@ -2897,11 +2897,7 @@ public final class InternetHouse {
 
         void addFixed(int net, int bits, int via, int price, int leased) {
             int r = fixed.insert(fixed.count);
-            fixed.put(r, 0, net);
-            fixed.put(r, 1, bits);
-            fixed.put(r, 2, via);
-            fixed.put(r, 3, price);
-            fixed.put(r, 4, leased);
+            fixed.fill(r, net, bits, via, price, leased, 0);
         }
 
         void dropLeased(int leased) {
@@ -2921,12 +2917,7 @@ public final class InternetHouse {
 
         void addWay(int net, int bits, int ofKind, int price, int via, int out) {
             int r = all.insert(all.count);
-            all.put(r, 0, net);
-            all.put(r, 1, bits);
-            all.put(r, 2, ofKind);
-            all.put(r, 3, price);
-            all.put(r, 4, via);
-            all.put(r, 5, out);
+            all.fill(r, net, bits, ofKind, price, via, out);
         }
 
         /** WAYS of KINDS 0 and 1. */
@@ -3148,12 +3139,7 @@ public final class InternetHouse {
             if (r < 0) {
                 return;
             }
-            rows.put(r, 0, net);
-            rows.put(r, 1, bits);
-            rows.put(r, 2, m);
-            rows.put(r, 3, via);
-            rows.put(r, 4, in);
-            rows.put(r, 5, w.time);
+            rows.fill(r, net, bits, m, via, in, w.time);
             changed = true;
             n.stale = true;
         }
@@ -3571,9 +3557,7 @@ public final class InternetHouse {
                 return;
             }
             r = sums.insert(r);
-            sums.put(r, 0, net);
-            sums.put(r, 1, bits);
-            sums.put(r, 2, least);
+            sums.fill(r, net, bits, least, 0, 0, 0);
         }
 
         /** What is FOUND anew, and put to all WAYS as those of KIND 2. */
@@ -3673,10 +3657,7 @@ public final class InternetHouse {
                 }
             }
             int r = foundPlain.insert(foundPlain.count);
-            foundPlain.put(r, 0, net);
-            foundPlain.put(r, 1, bits);
-            foundPlain.put(r, 2, area);
-            foundPlain.put(r, 3, c);
+            foundPlain.fill(r, net, bits, area, c, 0, 0);
         }
 
         /** Keeps the least for a NET and AREA, by NET, BITS, COST, NEXT, PORT. */
@@ -3705,12 +3686,7 @@ public final class InternetHouse {
                 place++;
             }
             int r = foundWays.insert(place);
-            foundWays.put(r, 0, net);
-            foundWays.put(r, 1, bits);
-            foundWays.put(r, 2, area);
-            foundWays.put(r, 3, c);
-            foundWays.put(r, 4, via);
-            foundWays.put(r, 5, port);
+            foundWays.fill(r, net, bits, area, c, via, port);
         }
     }
 
