@@ -3786,13 +3786,17 @@ public final class InternetHouse {
             forget(r);
         }
 
-        /** What was HEARD of a PEER, what it was TOLD, what is under way is gone. */
+        /**
+         * What was HEARD of a PEER (with it, which one was the last one taken), what it was TOLD, what is
+         * under way is gone. The own NUMBERS go on, so that late THANKS are not taken for those of a new one.
+         */
         private void forget(int r) {
             int who = peers.get(r, 0);
             dropOf(heard, who);
             dropOf(told, who);
             dropOf(under, who);
             peers.put(r, UNDER, 0);
+            peers.put(r, TAKEN, 0);
             n.stale = true;
         }
 

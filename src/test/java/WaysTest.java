@@ -265,6 +265,79 @@ public final class WaysTest {
         Due.is("IDLE", 0, () -> x.look(1, 6, 1, 2));
     }
 
+    /** Two SYSTEMS; what the second one tells the first is HEARD again whenever their PEERS are UP anew. */
+    private static void upAnew() {
+        InternetHouse x = row(2, false);
+        int far = Due.a(77, 0, 0, 0);
+        x.set(0, 8, 100, 0, 0);
+        x.set(1, 8, 200, 0, 0);
+        x.set(0, 9, net(0) + 2, 200, 0);
+        x.set(1, 9, net(0) + 1, 100, 0);
+        x.set(1, 10, far, 8, 1);
+        runs(x, 30);
+        heardOnce("at first", x, far);
+        x.set(1, 9, net(0) + 1, 100, 0);
+        Due.is("not gone before an OPEN comes", 1, () -> x.look(0, 6, 0, 3));
+        runs(x, 30);
+        heardOnce("a PEER made anew", x, far);
+        x.set(1, 0, 0, 0, 0);
+        x.set(1, 0, 1, 0, 0);
+        runs(x, 30);
+        heardOnce("a NODE that was down", x, far);
+        x.set(1, 8, 200, 0, 0);
+        runs(x, 30);
+        heardOnce("a SYSTEM that was set", x, far);
+        x.set(0, 9, net(0) + 2, 200, 0);
+        Due.is("gone with the PEER", 0, () -> x.look(0, 6, 0, 3));
+        runs(x, 30);
+        heardOnce("the other side's PEER made anew", x, far);
+        x.quality(0, 6, 1);
+        runs(x, 30);
+        Due.is("gone with 25 UNITS", 0, () -> x.look(0, 6, 0, 3));
+        x.quality(0, 6, 0);
+        runs(x, 40);
+        heardOnce("a LINE that was CUT", x, far);
+        tell(x, 7, 5);
+        Due.is("one more", 2, () -> x.look(0, 6, 0, 3));
+        tell(x, 7, 6);
+        Due.is("7 is the last one taken: nothing more", 2, () -> x.look(0, 6, 0, 3));
+        for (int which = 0; which < 2; which++) {
+            open(x, which);
+            Due.is("an OPEN while UP: gone", 0, () -> x.look(0, 6, 0, 3));
+            Due.is("UP anew", 2, () -> x.look(0, 6, 0, 2));
+            tell(x, 7, 5);
+            Due.is("7 is the last one taken no more", 1, () -> x.look(0, 6, 0, 3));
+            tell(x, 7, 6);
+            Due.is("now it is", 1, () -> x.look(0, 6, 0, 3));
+            open(x, which);
+            tell(x, 0, 5);
+            Due.is("0 is so, as at first", 0, () -> x.look(0, 6, 0, 3));
+            tell(x, 7, 5);
+            Due.is("7 is not", 1, () -> x.look(0, 6, 0, 3));
+        }
+    }
+
+    /** An OPEN of NODE 1 comes to NODE 0. */
+    private static void open(InternetHouse x, int which) {
+        byte[] data = Due.bytes(1, which, 0, 200, 1);
+        Due.inject(x, 0, Due.packet(79, 9, 0, 0, net(0) + 2, net(0) + 1, data));
+    }
+
+    /** Of NODE 0: the PEER is UP, one NET was HEARD of it, and it has THE WAY to it. */
+    private static void heardOnce(String what, InternetHouse x, int far) {
+        Due.is(what + ": UP", 2, () -> x.look(0, 6, 0, 2));
+        Due.is(what + ": HEARD", 1, () -> x.look(0, 6, 0, 3));
+        Due.is(what + ": TOLD", 1, () -> x.look(1, 6, 0, 4));
+        Due.is(what + ": THE WAY", 256L * (net(0) + 2), () -> x.way(0, 0, far + 1));
+    }
+
+    /** A TELL of NODE 1 with a NUMBER, of a NET, comes to NODE 0. */
+    private static void tell(InternetHouse x, int number, int net) {
+        byte[] data = Due.join(Due.bytes(3, 0, number, net, 0, 0, 0, 8), Due.word(net(0) + 2),
+                Due.bytes(0, 0, 0, 0, 100, 0, 0, 1, 0, 200));
+        Due.inject(x, 0, Due.packet(79, 9, 0, 0, net(0) + 2, net(0) + 1, data));
+    }
+
     /** Seven SYSTEMS; OPENS that cross make PEERS UP anew, and yet all learn the shortest ways. */
     private static void crossingOpens() {
         InternetHouse x = new InternetHouse();
@@ -358,6 +431,7 @@ public final class WaysTest {
         link();
         areas();
         outer();
+        upAnew();
         crossingOpens();
         policies();
         down();
