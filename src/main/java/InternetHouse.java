@@ -2117,21 +2117,20 @@ public final class InternetHouse {
         /** A PACKET goes by THE WAY that was found last. */
         private void goBy(Buf p, boolean mine) {
             int to = p.u32(14);
-            if (ways.port < 0) {
-                guard.wrap(p, ways.next);
-                return;
-            }
             Buf q = again(p, World.PASS);
-            q.port = ways.port;
-            q.y = 1;
-            q.via = isMany(to) ? to : ways.next;
+            q.port = Math.max(0, ways.port);
+            q.y = ways.port < 0 ? 2 : 1;
+            q.via = isMany(to) && ways.port >= 0 ? to : ways.next;
             q.size = mine ? pathSize(to) : 1000;
         }
 
-        /** A job that PASSES on a PORT: one's own (y 0), or one that is ready (y 1); x: to a LINK ADDRESS. */
+        /**
+         * A job that PASSES: on a PORT one's own (y 0), or one that is ready (y 1); into a TUNNEL (y 2);
+         * x: to a LINK ADDRESS.
+         */
         void passNow(Buf p) {
-            Port q = ports[p.port & 3];
-            if (q.line < 0) {
+            Port q = p.y == 2 ? null : ports[p.port & 3];
+            if (q != null && q.line < 0) {
                 return;
             }
             if (p.y == 0) {
@@ -2139,11 +2138,13 @@ public final class InternetHouse {
                 p.via = p.u32(14);
                 p.size = 1000;
             }
-            int size = Math.min(p.size, w.lines.get(q.line, World.SIZE));
-            if (p.x != 0) {
+            int size = q == null ? p.size : Math.min(p.size, w.lines.get(q.line, World.SIZE));
+            if (q != null && p.x != 0) {
                 q.frame(p, p.x);
-            } else if (p.len <= size) {
+            } else if (q != null && p.len <= size) {
                 q.pass(p, p.via);
+            } else if (p.len <= size) {
+                guard.wrap(p, p.via);
             } else if ((p.u8(6) & 64) != 0) {
                 tell(p, 3, 4, size);
             } else {
@@ -2151,6 +2152,7 @@ public final class InternetHouse {
             }
         }
 
+        /** PASSES a PACKET in pieces on a PORT to an ADDRESS (null: into a TUNNEL). */
         private void cut(Buf p, Port q, int next, int size) {
             int most = (size - HEAD) / 8 * 8;
             if (most < 8) {
@@ -2168,7 +2170,11 @@ public final class InternetHouse {
                 piece.p8(2, HEAD + n);
                 piece.p8(6, flags & 96 | place | (more ? 128 : 0));
                 piece.p16(8, piece.sum(0, HEAD, 8));
-                q.pass(piece, next);
+                if (q == null) {
+                    guard.wrap(piece, next);
+                } else {
+                    q.pass(piece, next);
+                }
             }
             w.release(piece);
         }

@@ -204,6 +204,19 @@ public final class GuardsTest {
         Due.inject(x, 4, Due.packet(17, 9, 0, 0, A1, c2, new byte[110]));
         x.run(5);
         Due.is("too long: WRONG", key == 0 ? w : w + 1, () -> x.count(1, 4));
+        x.run(10);
+        byte[] long1 = Due.packet(1, 9, 0, 64, B1, c2, new byte[8]);
+        Due.inject(x, 5, Due.packet(1, 9, 0, 0, B2, B1, Due.control(3, 4, 60, 0, long1)));
+        Due.is("PATH", c2, () -> x.look(1, 14, 0, 0));
+        int before = x.count(3, 9);
+        x.capture(1, 1);
+        x.echo(1, c2, 60, 32);
+        x.run(15);
+        Due.is("an own PACKET goes into the TUNNEL", 1, () -> x.capture(1, 2) > 2 ? 1 : 0);
+        int more = key == 0 ? 5 : 9;
+        Due.is("in pieces: 40 bytes", 18 + 18 + 40 + more, () -> x.octet(5));
+        Due.is("and 28", 18 + 18 + 28 + more, () -> x.octet(6 + 18 + 18 + 40 + more + 5));
+        Due.is("JOINED", before + 1, () -> x.count(3, 9));
     }
 
     private static void groups() {
