@@ -3782,8 +3782,6 @@ public final class InternetHouse {
                 peers.put(r, 0, who);
                 peers.put(r, 1, s);
                 peers.put(r, NODE, 0);
-                peers.put(r, SENT, 0);
-                peers.put(r, TAKEN, 0);
             }
         }
 
@@ -3793,8 +3791,8 @@ public final class InternetHouse {
         }
 
         /**
-         * What was HEARD of a PEER (with it, which one was the last one taken), what it was TOLD, what is
-         * under way is gone. The own NUMBERS go on, so that late THANKS are not taken for those of a new one.
+         * What was HEARD of a PEER (with it, which one was the last one taken), what it was TOLD (with it,
+         * the NUMBERS), what is under way is gone.
          */
         private void forget(int r) {
             int who = peers.get(r, 0);
@@ -3802,6 +3800,7 @@ public final class InternetHouse {
             dropOf(told, who);
             dropOf(under, who);
             peers.put(r, UNDER, 0);
+            peers.put(r, SENT, 0);
             peers.put(r, TAKEN, 0);
             n.stale = true;
         }
@@ -4359,8 +4358,9 @@ public final class InternetHouse {
         }
 
         /** Whether it has its port for itself. */
+        /** One that came of a LISTEN one has been used from its first moment. */
         boolean holdsPort() {
-            return parent < 0 && (state != CLOSED || kind == 1 && !used);
+            return state != CLOSED || kind == 1 && !used;
         }
 
         // DATAGRAMS
@@ -6112,19 +6112,21 @@ public final class InternetHouse {
         int mine = port;
         if (port == 0) {
             mine = 50000;
-            while (mine < 50100 && portUsed(x, kind, mine)) {
+            while (mine < 50100 && portUsed(x, kind, mine, true)) {
                 mine++;
             }
         }
-        allow(!portUsed(x, kind, mine));
+        allow(!portUsed(x, kind, mine, port == 0));
         Socket s = w.addSocket(x, kind, mine);
         return s == null ? -1 : s.num;
     }
 
-    private boolean portUsed(Node x, int kind, int port) {
+    /** Whether a SOCKET has a port; those that came of one that LISTENS are looked at or not. */
+    private boolean portUsed(Node x, int kind, int port, boolean offspring) {
         for (int i = 0; i < w.socketCount; i++) {
             Socket s = w.sockets[i];
-            if (s.n == x && (s.kind == 0) == (kind == 0) && s.port == port && s.holdsPort()) {
+            boolean meant = s.n == x && (s.kind == 0) == (kind == 0) && (offspring || s.parent < 0);
+            if (meant && s.port == port && s.holdsPort()) {
                 return true;
             }
         }

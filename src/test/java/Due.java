@@ -22,7 +22,7 @@ final class Due {
         said(what, got, Long.toString(want));
     }
 
-    private static void said(String what, String got, String want) {
+    static void said(String what, String got, String want) {
         asked++;
         if (!got.equals(want)) {
             wrong++;

@@ -56,6 +56,39 @@ public final class SocketsTest {
         Due.is("CLOSED", 0, () -> x.state(2, 0));
     }
 
+    /** What came of one that LISTENS has its port, too, while it is not CLOSED: for port 0, not for one that is told. */
+    private static void offspringPorts() {
+        InternetHouse x = pair();
+        int l = x.socket(1, 2, 0);
+        Due.is("any", 50000, () -> x.state(l, 10));
+        int c = x.socket(0, 1, 7);
+        x.connect(c, A2, 50000);
+        x.run(8);
+        int mine = 2;
+        Due.is("SYN CAME", 3, () -> x.state(mine, 0));
+        Due.is("its port", 50000, () -> x.state(mine, 10));
+        x.run(12);
+        Due.is("accept", mine, () -> x.accept(l));
+        Due.state("LISTEN has it", () -> x.socket(1, 1, 50000));
+        x.close(l, 0);
+        Due.is("OPEN", 4, () -> x.state(mine, 0));
+        Due.is("the next one", 50001, () -> x.state(x.socket(1, 1, 0), 10));
+        Due.is("that is used, too", 50002, () -> x.state(x.socket(1, 2, 0), 10));
+        Due.is("DATAGRAMS by themselves", 50000, () -> x.state(x.socket(1, 0, 0), 10));
+        Due.is("another NODE", 50000, () -> x.state(x.socket(0, 1, 0), 10));
+        int again = x.socket(1, 2, 50000);
+        Due.is("one that is told: not looked at", 50000, () -> x.state(again, 10));
+        x.close(again, 0);
+        x.close(c, 0);
+        x.run(10);
+        Due.is("CLOSE WAIT", 7, () -> x.state(mine, 0));
+        Due.is("it has it still", 50003, () -> x.state(x.socket(1, 1, 0), 10));
+        x.close(mine, 0);
+        x.run(10);
+        Due.is("CLOSED", 0, () -> x.state(mine, 0));
+        Due.is("free", 50000, () -> x.state(x.socket(1, 1, 0), 10));
+    }
+
     private static void datagrams() {
         InternetHouse x = pair();
         int a = x.socket(0, 0, 5);
@@ -308,6 +341,7 @@ public final class SocketsTest {
 
     public static void main(String[] args) {
         ports();
+        offspringPorts();
         datagrams();
         handshake();
         failures();

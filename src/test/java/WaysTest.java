@@ -338,37 +338,83 @@ public final class WaysTest {
         Due.inject(x, 0, Due.packet(79, 9, 0, 0, net(0) + 2, net(0) + 1, data));
     }
 
-    /** Seven SYSTEMS; OPENS that cross make PEERS UP anew, and yet all learn the shortest ways. */
-    private static void crossingOpens() {
-        InternetHouse x = new InternetHouse();
-        for (int i = 0; i < 7; i++) {
-            x.node(2);
-            x.set(i, 8, 100 + i, 0, 0);
-            x.set(i, 10, Due.a(50 + i, 0, 0, 0), 8, 1);
+    /** The NUMBERS are from 1 again when a PEER is UP anew, and THANKS for an old one do no harm. */
+    private static void numbersAnew() {
+        for (int which = 0; which < 2; which++) {
+            InternetHouse x = row(2, false);
+            x.set(0, 8, 100, 0, 0);
+            x.set(1, 8, 200, 0, 0);
+            x.set(0, 9, net(0) + 2, 200, 0);
+            x.set(1, 9, net(0) + 1, 100, 0);
+            runs(x, 30);
+            x.set(0, 10, Due.a(77, 0, 0, 0), 8, 1);
+            x.set(0, 10, Due.a(78, 0, 0, 0), 8, 1);
+            numbers("at first", x, 1, 2);
+            x.set(0, 10, Due.a(78, 0, 0, 0), 8, 0);
+            numbers("TAKE BACK", x, 3);
+            x.set(0, 10, Due.a(78, 0, 0, 0), 8, 1);
+            numbers("the next", x, 4);
+            open(x, which);
+            numbers("UP anew by OPEN " + which, x, 1, 2);
+            x.set(0, 10, Due.a(79, 0, 0, 0), 8, 1);
+            numbers("then on", x, 3);
+            x.set(0, 10, Due.a(80, 0, 0, 0), 8, 1);
+            x.run(1);
+            open(x, which);
+            Due.inject(x, 0, Due.packet(79, 9, 0, 0, net(0) + 2, net(0) + 1, Due.bytes(5, 0, 4)));
+            Due.is("THANKS for an old one", 0, () -> x.look(0, 6, 0, 4));
+            numbers("what was under way is gone", x, 1, 2, 3, 4);
+            Due.is("TOLD", 4, () -> x.look(0, 6, 0, 4));
         }
-        int[][] lines = {{4, 1}, {0, 1}, {6, 5}, {0, 5}, {6, 4}, {4, 2}, {2, 5}, {2, 3}, {0, 6}};
-        int[] used = new int[7];
-        for (int i = 0; i < lines.length; i++) {
-            int a = lines[i][0];
-            int b = lines[i][1];
-            int p = 4 * a + used[a]++;
-            int q = 4 * b + used[b]++;
-            x.line(p, q, 1 + i % 2, 255, 148);
-            x.address(p, net(i) + 1, 24);
-            x.address(q, net(i) + 2, 24);
+    }
+
+    /** What NODE 0 tells in 40 UNITS has these NUMBERS. */
+    private static void numbers(String what, InternetHouse x, int... want) {
+        StringBuilder got = new StringBuilder();
+        for (int i = 0; i < 40; i++) {
+            x.capture(0, 1);
+            x.run(1);
+            x.capture(0, 2);
+            String out = Due.out(x);
+            for (int at = 0; at < out.length(); at += 6 + out.charAt(at + 5)) {
+                int data = at + 6 + 3 + 18;
+                boolean mine = out.charAt(at + 4) == 0 && out.charAt(at + 8) == 3 && out.charAt(at + 10) == 79;
+                if (mine && (out.charAt(data) == 3 || out.charAt(data) == 4)) {
+                    got.append(out.charAt(data + 1) * 256 + out.charAt(data + 2)).append(' ');
+                }
+            }
+        }
+        StringBuilder due = new StringBuilder();
+        for (int n : want) {
+            due.append(n).append(' ');
+        }
+        Due.said("NUMBERS, " + what, got.toString(), due.toString());
+    }
+
+    /** Four SYSTEMS in a ring (their OPENS don't cross): all learn the shortest ways. */
+    private static void ring() {
+        InternetHouse x = new InternetHouse();
+        for (int i = 0; i < 10; i++) {
+            x.node(2);
+        }
+        for (int i = 0; i < 4; i++) {
+            int a = 3 * i;
+            int b = 3 * ((i + 1) % 4);
+            x.set(a, 8, 100 + a, 0, 0);
+            x.set(a, 10, Due.a(50 + a, 0, 0, 0), 8, 1);
+            x.line(4 * a, 4 * b + 1, 1 + i % 2, 255, 148);
+            x.address(4 * a, net(i) + 1, 24);
+            x.address(4 * b + 1, net(i) + 2, 24);
             x.set(a, 9, net(i) + 2, 100 + b, 0);
             x.set(b, 9, net(i) + 1, 100 + a, 0);
         }
-        runs(x, 200);
-        int[][] far = {
-            {0, 1, 2, 3, 2, 1, 1}, {1, 0, 2, 3, 1, 2, 2}, {2, 2, 0, 1, 1, 1, 2}, {3, 3, 1, 0, 2, 2, 3},
-            {2, 1, 1, 2, 0, 2, 1}, {1, 2, 1, 2, 2, 0, 1}, {1, 2, 2, 3, 1, 1, 0},
-        };
-        for (int i = 0; i < 7; i++) {
-            for (int k = 0; k < 7; k++) {
-                int a = i;
-                int b = k;
-                Due.is("SYSTEMS from " + a + " to " + b, far[a][b], () -> x.look(a, 7, b, 4));
+        runs(x, 100);
+        int[] far = {0, 1, 2, 1};
+        for (int i = 0; i < 4; i++) {
+            for (int k = 0; k < 4; k++) {
+                int a = 3 * i;
+                int row = k;
+                Due.is("SYSTEMS from " + a + " to " + 3 * k, far[(i - k + 4) % 4], () -> x.look(a, 7, row, 4));
             }
         }
     }
@@ -432,7 +478,8 @@ public final class WaysTest {
         areas();
         outer();
         upAnew();
-        crossingOpens();
+        numbersAnew();
+        ring();
         policies();
         down();
         Due.end("WaysTest");
