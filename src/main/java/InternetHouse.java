@@ -341,6 +341,12 @@ public final class InternetHouse {
         static final int ENDS = 7;
         static final int CAPTURE = 9;
         static final int STOCK = 64;
+        /**
+         * More than all ROWS, COPIES, BOOKS and the like can hold, and more jobs than a UNIT has: only a TUNNEL
+         * whose own PACKETS go into it, in ever more pieces, would come beyond, and have no end.
+         */
+        static final int MOST_MADE = 6000;
+        static final int MOST_JOBS = 100000;
 
         int time;
         int chance;
@@ -355,6 +361,7 @@ public final class InternetHouse {
         Buf cursor;
         Buf free;
         int freeCount;
+        int made;
         /** Stands in where no row is left, which stockUp does not let happen; what is put there is lost. */
         final Buf spare = new Buf(164);
         final Socket[] sockets = new Socket[32];
@@ -427,14 +434,15 @@ public final class InternetHouse {
             return s;
         }
 
-        /** Sees to it that there are rows for the next job: none makes as many as that. */
+        /** Sees to it that there are rows for the next job: none takes as many as that. */
         private void stockUp() {
-            for (int i = freeCount; i < STOCK; i++) {
+            while (freeCount < STOCK && made < MOST_MADE) {
                 Buf b = new Buf(164);
                 b.next = free;
                 free = b;
+                freeCount++;
+                made++;
             }
-            freeCount = Math.max(freeCount, STOCK);
         }
 
         Buf fetch() {
@@ -499,14 +507,21 @@ public final class InternetHouse {
 
         /** Does all jobs. */
         void drain() {
-            for (int i = 0; i < MANY && jobs != null; i++) {
+            int done = 0;
+            while (jobs != null) {
                 Buf j = jobs;
                 jobs = j.next;
                 j.next = null;
                 cursor = null;
                 Node n = nodeAt(j.node);
                 if (n == null) {
+                    done = 0;
                     unit(j.x);
+                    release(j);
+                    continue;
+                }
+                done++;
+                if (done > MOST_JOBS) {
                     release(j);
                     continue;
                 }

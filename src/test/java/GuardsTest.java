@@ -219,6 +219,24 @@ public final class GuardsTest {
         Due.is("JOINED", before + 1, () -> x.count(3, 9));
     }
 
+    /** What is sent to FAR goes into the TUNNEL itself, in ever more pieces: TIME goes on for all that. */
+    private static void endless() {
+        InternetHouse x = chain();
+        int far = Due.a(10, 9, 0, 1);
+        x.set(1, 12, 0, far, 0);
+        x.route(1, Due.a(10, 9, 0, 0), 24, 0, 1);
+        x.echo(1, far, 50, 32);
+        Due.is("longer than 148 once", 1, () -> x.count(1, 4));
+        byte[] long1 = Due.packet(1, 9, 0, 64, B1, far, new byte[8]);
+        Due.inject(x, 5, Due.packet(1, 9, 0, 0, B2, B1, Due.control(3, 4, 60, 0, long1)));
+        Due.is("PATH", 60, () -> x.look(1, 14, 0, 1));
+        x.echo(1, far, 50, 32);
+        Due.is("TIME", 5, () -> x.run(5));
+        x.echo(1, B2, 0, 32);
+        x.run(10);
+        Due.is("answered", B2, () -> x.look(1, 13, 0, 3));
+    }
+
     private static void groups() {
         InternetHouse x = chain();
         Due.argument("no GROUP", () -> x.set(2, 16, A1, 1, 0));
@@ -260,6 +278,7 @@ public final class GuardsTest {
         rewritten();
         tunnels(0);
         tunnels(4711);
+        endless();
         groups();
         Due.end("GuardsTest");
     }
