@@ -346,7 +346,7 @@ public final class InternetHouse {
          * whose own PACKETS go into it, in ever more pieces, would come beyond, and have no end.
          */
         static final int MOST_MADE = 6000;
-        static final int MOST_JOBS = 100000;
+        static final int MOST_JOBS = 15000;
 
         int time;
         int chance;
@@ -508,7 +508,7 @@ public final class InternetHouse {
         /** Does all jobs. */
         void drain() {
             int done = 0;
-            while (jobs != null) {
+            for (int i = 0; i < MANY && jobs != null; i++) {
                 Buf j = jobs;
                 jobs = j.next;
                 j.next = null;
