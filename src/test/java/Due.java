@@ -8,6 +8,9 @@ final class Due {
 
     private static int wrong;
     private static int asked;
+    private static int sentences;
+    private static String sentence = "";
+    private static String document;
 
     private Due() {
     }
@@ -26,8 +29,29 @@ final class Due {
         asked++;
         if (!got.equals(want)) {
             wrong++;
-            System.out.println(what + ": " + got + ", due is " + want);
+            System.out.println((sentence.isEmpty() ? "" : "\"" + sentence + "\": ") + what + ": " + got + ", due is " + want);
         }
+    }
+
+    /** Names the sentence (or the part of one) of the document that what is asked from here on tests. */
+    static void sentence(String words) {
+        sentence = words;
+        sentences++;
+        if (!document().contains(words)) {
+            said("stands in the document", "no", "yes");
+        }
+    }
+
+    static String document() {
+        try {
+            if (document == null) {
+                java.nio.file.Path p = java.nio.file.Path.of("../shared/DOC.md");
+                document = java.nio.file.Files.readString(p, java.nio.charset.StandardCharsets.UTF_8);
+            }
+        } catch (java.io.IOException e) {
+            document = "";
+        }
+        return document;
     }
 
     private static void fails(String what, Class<?> want, Call c) {
@@ -53,7 +77,8 @@ final class Due {
     }
 
     static void end(String name) {
-        System.out.println(name + ": " + asked + " asked, " + wrong + " wrong");
+        String of = sentences > 0 ? " of " + sentences + " sentences" : "";
+        System.out.println(name + ": " + asked + " asked" + of + ", " + wrong + " wrong");
         if (wrong != 0) {
             System.exit(1);
         }
@@ -66,14 +91,18 @@ final class Due {
 
     static void feed(InternetHouse x, byte[] b) {
         x.end(0);
-        for (int i = 0; i < b.length; i += 20) {
+        int n = 0;
+        while (n < b.length) {
+            // twenty bytes must find room: at 480 a shorter step, if there are more than 500
+            int step = n == 480 && b.length > 500 ? 12 : Math.min(20, b.length - n);
             int[] v = new int[5];
-            for (int k = 0; k < 20 && i + k < b.length; k++) {
-                v[k / 4] |= (b[i + k] & 255) << 24 - 8 * (k % 4);
+            for (int k = 0; k < step; k++) {
+                v[k / 4] |= (b[n + k] & 255) << 24 - 8 * (k % 4);
             }
             x.feed(v[0], v[1], v[2], v[3], v[4]);
+            n += step;
+            x.end(n);
         }
-        x.end(b.length);
     }
 
     static void feed(InternetHouse x, String s) {
