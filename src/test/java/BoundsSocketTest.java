@@ -25,9 +25,12 @@ public final class BoundsSocketTest {
             int between = least & 0xFFFF0000 | low;
             int f = least & 0xFFFF0000 | Wire.draw(between) >>> 16;
             if (f >= least && f <= most) {
-                return (between - 1013904223) * inverse;
+                int seed = (between - 1013904223) * inverse;
+                Due.is("FIRST of a CHANCE that was looked for", f, () -> first(seed));
+                return seed;
             }
         }
+        Due.said("a CHANCE for FIRST " + least + " to " + most, "none", "one");
         return 0;
     }
 
@@ -309,7 +312,7 @@ public final class BoundsSocketTest {
         Due.is("CLOSE WAIT", 7, () -> z.state(C, 0));
         Due.is("is accepted, too", C, () -> z.accept(0));
         Due.sentence("SYN CAME: if ACK is BEHIND UNA and not BEHIND MOST: OPEN (UNA is FIRST + 1, TRIES 0, the TIMER off, FAR WINDOW its WINDOW), else a RST with NUMBER ACK and WINDOW 0; nothing more.");
-        for (int seed : new int[] {0, seedFor(-1, -1), seedFor(Integer.MAX_VALUE, Integer.MAX_VALUE)}) {
+        for (int seed : new int[] {0, seedFor(-1, -1), seedFor(Integer.MAX_VALUE - 3, Integer.MAX_VALUE)}) {
             for (int d = -1; d < 4; d++) {
                 InternetHouse u = lone(seed);
                 u.socket(1, 2, 80);
@@ -946,7 +949,7 @@ public final class BoundsSocketTest {
     private static void wraps() {
         Due.sentence("NUMBERS are of 32 bits and wrap; x is BEHIND y if x - y, as an int, is above 0.");
         int[] own = {0, seedFor(-1, -1), seedFor(-60, -40), seedFor(Integer.MAX_VALUE - 60, Integer.MAX_VALUE - 40), seedFor(-2, -2),
-            seedFor(Integer.MAX_VALUE, Integer.MAX_VALUE)};
+            seedFor(Integer.MAX_VALUE - 3, Integer.MAX_VALUE)};
         int[] peer = {100, -1, -2, -30, Integer.MAX_VALUE, Integer.MAX_VALUE - 30, Integer.MIN_VALUE};
         for (int seed : own) {
             for (int far : peer) {
