@@ -205,6 +205,7 @@ public final class BoundsGuardTest {
         Due.argument("the TAPE is empty", () -> x.end(1));
         Due.inject(x, 0, to(99, 0, A2, new byte[0]));
         Due.is("all else stays", 1, () -> x.count(0, 5));
+        Due.sentence("The TAPE, empty then (taken or not), becomes the FILTER (kind 0), POLICY (1), ZONES (2) of a NODE, in place of what was: how many RULES or ROWS;");
         Due.sentence("-1 less the first LINE (from 0) that is not right, and all else stays. IllegalArgumentException: another kind. IllegalStateException: a BRIDGE; POLICY at no ROUTER.");
         InternetHouse y = new InternetHouse();
         for (int i = 0; i < 3; i++) {
@@ -396,6 +397,7 @@ public final class BoundsGuardTest {
             byte[] want = hidden(key, 1, Due.packet(99, 8, 0, 0, A1, Due.a(10, 9, 0, 1), Due.bytes(1, 2, 255)));
             Due.is("KEY " + key, 1, () -> java.util.Arrays.equals(want, Wire.data(x, 5, 0)) ? 1 : 0);
         }
+        Due.sentence("a FAR ADDRESS and a KEY (0 to 65535).");
         Due.sentence("12: TUNNEL a (0, 1) with FAR b (0: none) and KEY c.");
         InternetHouse s = tunnel(0);
         Due.argument("TUNNEL -1", () -> s.set(1, 12, -1, B2, 0));

@@ -132,6 +132,7 @@ public final class BoundsLinesTest {
             Due.is("TO " + to[k] + " at PORT 47", looked[k], () -> x.count(11, 4));
         }
         Due.sentence("A LINE has a DELAY (1 to 20), a RATE (8 to 255 bytes in a UNIT), a SIZE (60 to 148: the longest PACKET)");
+        Due.sentence("IllegalArgumentException: both of one NODE, or delay, rate, size.");
         Due.argument("DELAY 0", () -> x.line(0, 4, 0, 8, 60));
         Due.argument("DELAY 21", () -> x.line(0, 4, 21, 8, 60));
         Due.argument("RATE 7", () -> x.line(0, 4, 1, 7, 60));
@@ -403,6 +404,12 @@ public final class BoundsLinesTest {
         Wire.frame(x, 0, ask);
         Due.is("as it is", 2, () -> x.count(0, 1));
         Due.is("as it is", A2, () -> x.look(0, 0, 0, 1));
+        Due.sentence("CHECK (2 bytes): c is 65535 at first; for each byte before it c becomes c xor 256 times the byte, then eight times: twice c, in 16 bits, xor 4129 if c was 32768 or more.");
+        int arrived = x.count(0, 1);
+        Wire.frame(x, 0, Due.join("123456789".getBytes(), Due.bytes(0x29, 0xB1)));
+        Due.is("nine digits: 29 B1", arrived + 1, () -> x.count(0, 1));
+        Wire.frame(x, 0, Due.join("123456789".getBytes(), Due.bytes(0xB1, 0x29)));
+        Due.is("the highest first", arrived + 1, () -> x.count(0, 1));
         Due.sentence("A HOST or ROUTER looks only at those whose TO is that PORT's LINK ADDRESS or 255.");
         for (int kind = 0; kind < 3; kind += 2) {
             InternetHouse y = Wire.pair(kind);
@@ -437,7 +444,7 @@ public final class BoundsLinesTest {
     }
 
     private static void rows() {
-        Due.sentence("at most 8 in each: more are dropped (counted as DROPPED).");
+        Due.sentence("Each PORT has four ROWS of FRAMES that wait, for CLASSES 0 to 3, at most 8 in each: more are dropped (counted as DROPPED).");
         InternetHouse x = gate();
         for (int c = 0; c < 3; c++) {
             int before = c;
@@ -514,7 +521,7 @@ public final class BoundsLinesTest {
             }
         }
         Due.said("two of 32 bytes for a QUANTUM", order.toString(), "110100");
-        Due.sentence("has the CLASS of the TURN no FRAME, its DEFICIT becomes 0, and the TURN goes on (0, 1, 2, 0, ..)");
+        Due.sentence("Else, if any waits: as long as none was found: has the CLASS of the TURN no FRAME, its DEFICIT becomes 0, and the TURN goes on (0, 1, 2, 0, ..)");
         InternetHouse y = gate();
         queue(y, 1, 40);
         y.quality(1, 6, 0);
@@ -739,6 +746,22 @@ public final class BoundsLinesTest {
         }
         Due.is("length", 122, () -> x.octet(5));
         Due.is("PORT", 0, () -> x.octet(4));
+        Due.sentence("BYTES are told as 0 to 255, numbers of several bytes with the highest first.");
+        Due.is("a byte of 173", 173, () -> {
+            Due.feed(x, Due.join(new byte[90], Due.bytes(173)));
+            x.capture(0, 1);
+            x.write(0);
+            x.run(2);
+            x.capture(0, 2);
+            return x.octet(6 + 122 - 3);
+        });
+        Due.is("LENGTH of a DATAGRAM: 99", 99, () -> x.octet(6 + 3 + 18 + 4) * 256 + x.octet(6 + 3 + 18 + 5));
+        x.capture(0, 1);
+        for (int i = 0; i < 3; i++) {
+            send(x, 91);
+        }
+        x.run(4);
+        x.capture(0, 2);
         Due.sentence("Byte k of OUT; for k -1 how many. NoSuchElementException: there is none.");
         Due.is("the last", 1, () -> x.octet(383) >= 0 ? 1 : 0);
         Due.missing("384", () -> x.octet(384));

@@ -64,6 +64,7 @@ public final class BoundsNamesTest {
         Due.argument("14: PORT 4", () -> x.set(0, 14, 4, 1, 0));
         Due.argument("14: b 2", () -> x.set(0, 14, 2, 2, 0));
         Due.argument("14: b -1", () -> x.set(0, 14, 2, -1, 0));
+        Due.sentence("A PORT of a HOST without ADDRESS may BORROW.");
         Due.state("14: it has one", () -> x.set(1, 14, 0, 1, 0));
         Due.is("14: not, and it did not", 1, () -> x.set(0, 14, 2, 0, 0));
         Due.sentence("DATA (19 bytes, others are nothing): TYPE, CLIENT (its PORT, 0 to 47)");
@@ -81,7 +82,7 @@ public final class BoundsNamesTest {
         Due.is("19 bytes, CLIENT 0", 0, () -> offered(y, 0));
         Due.is("CLIENT 47", 1, () -> offered(y, 47));
         Due.is("TO its LINK ADDRESS", 48, () -> y.seen(0, 0, 0));
-        Due.sentence("WANT at a PORT that LENDS: the least ADDRESS that CLIENT had last (or has), else the least that nobody has, either not OFFERED to another 20 UNITS ago or less: OFFER");
+        Due.sentence("WANT at a PORT that LENDS: the least ADDRESS that CLIENT had last (or has), else the least that nobody has, either not OFFERED to another 20 UNITS ago or less: OFFER (2: ADDRESS, BITS, LIFE, SERVER and GATE its own ADDRESS); nothing without one.");
         InternetHouse z = lender(2, 30);
         Due.is("the least", 0, () -> offered(z, 5));
         Due.is("OFFERED to another", 1, () -> offered(z, 6));
@@ -279,7 +280,7 @@ public final class BoundsNamesTest {
         Due.state("down", () -> x.ask(0, 1));
         Due.is("the TAPE stays", 1, () -> Wire.tape(x));
         x.set(0, 0, 1, 0, 0);
-        Due.sentence("the number of the QUESTION (0 to 3, the least that is not under way; what it was answered before is gone).");
+        Due.sentence("The TAPE, empty then, is a NAME for which NODE n is TO ASK with a KIND (1 to 4): the number of the QUESTION (0 to 3, the least that is not under way; what it was answered before is gone).");
         for (int i = 0; i < 4; i++) {
             Due.feed(x, "a" + i);
             int want = i;
@@ -293,7 +294,7 @@ public final class BoundsNamesTest {
         int c = Wire.draw(Wire.draw(Wire.draw(0)));
         Due.inject(x, 0, Wire.reply(A2, A1, c >>> 16, 0, Wire.row(1, 100, "a2", 77)));
         Due.is("the third is answered", 0, () -> x.answer(0, 2, 0));
-        Due.sentence("-1 it is under way, -2 none was asked, -3 CODE 0 and there is no VALUE i (OUT stays). NoSuchElementException: also a BRIDGE.");
+        Due.sentence("OUT becomes VALUE i of the answer to QUESTION q of a NODE (4 bytes, or the NAME): its CODE 0; else 1, 2, or 3 for FAILED (OUT is empty); -1 it is under way, -2 none was asked, -3 CODE 0 and there is no VALUE i (OUT stays). NoSuchElementException: also a BRIDGE.");
         Due.missing("NODE 3", () -> x.answer(3, 0, 0));
         Due.missing("NODE -1", () -> x.answer(-1, 0, 0));
         Due.missing("QUESTION -1", () -> x.answer(0, -1, 0));
@@ -351,7 +352,7 @@ public final class BoundsNamesTest {
     }
 
     private static void zones() {
-        Due.sentence("A NODE (HOST, ROUTER) has at most 3 ZONES, with at most 24 ROWS together: a ZONE's NAME and LIFE;");
+        Due.sentence("A NODE (HOST, ROUTER) has at most 3 ZONES, with at most 24 ROWS together: a ZONE's NAME and LIFE; a ROW: NAME (the ZONE's, or one below it), KIND (1 ADDRESS, 2 SERVER, 3 ALIAS, 4 TEXT), LIFE (1 to 500), VALUE (an ADDRESS; a NAME; a NAME; a number 0 to 65535).");
         InternetHouse x = Wire.pair(0);
         Due.is("3 ZONES", 0, () -> Wire.load(x, 0, 2, "zone a 1\nzone b 1\nzone c 1"));
         Due.is("4 ZONES", -4, () -> Wire.load(x, 0, 2, "zone a 1\nzone b 1\nzone c 1\nzone d 1"));
@@ -411,6 +412,7 @@ public final class BoundsNamesTest {
         Due.said("of one LABEL", told(two, 4, "x.b"), "1 1 11");
         Due.said("none", told(two, 4, "x.c"), "4 0 5");
         Due.said("the ROOT is above", told(two, 4, "."), "4 0 5");
+        Due.sentence("A CUT: a NAME below the ZONE's with a ROW of KIND 2; what is below it, and it, is not of the ZONE, but ADDRESSES there (GLUE).");
         Due.sentence("If a CUT is the NAME, or above it (the highest such): 3 with its ROWS of KIND 2 (as they stand), then for each of these the ADDRESSES of its VALUE that stand in the ZONE.");
         String cuts = "zone b 9\nb 5 ns n.b\nc.b 5 ns n.c.b\nd.c.b 5 ns m.b\nn.c.b 5 a 1.2.3.4\nn.c.b 5 a 1.2.3.5\ne.c.b 5 text 1\nm.b 5 a 1.2.3.6";
         Due.said("the NAME", told(cuts, 1, "c.b"), "3 3 44");
@@ -505,7 +507,7 @@ public final class BoundsNamesTest {
     }
 
     private void cache() {
-        Due.sentence("a CACHE of at most 16 ROWS (KIND, NAME, VALUE, till when;");
+        Due.sentence("a CACHE of at most 16 ROWS (KIND, NAME, VALUE, till when; KIND 0: that the NAME, or for KINDS above 10 that the KIND less 10 of it, is not) and at most 4 QUESTIONS under way.");
         Due.sentence("(those of the same KIND, NAME and VALUE go before; with 16 that with the least till when, of these the first, goes)");
         begin();
         byte[][] sixteen = new byte[16][];

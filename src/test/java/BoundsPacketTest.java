@@ -12,6 +12,7 @@ public final class BoundsPacketTest {
         InternetHouse x = new InternetHouse();
         x.node(0);
         x.node(1);
+        Due.sentence("HOSTS and ROUTERS have for each PORT perhaps an ADDRESS with BITS (its NET; 1 to 31).");
         Due.sentence("PORT p has this ADDRESS with BITS (1 to 31; 0: none any more): 1.");
         Due.missing("PORT 8", () -> x.address(8, A1, 24));
         Due.missing("PORT -1", () -> x.address(-1, A1, 24));
@@ -159,6 +160,7 @@ public final class BoundsPacketTest {
         Due.is("the last", 7, () -> Wire.u16(Wire.data(x, 0, 0), 4));
         Due.is("in order", 6, () -> Wire.u16(Wire.data(x, 0, 1), 4));
         Due.is("the oldest (NUMBER 3) was dropped", 5, () -> Wire.u16(Wire.data(x, 0, 2), 4));
+        Due.sentence("When an ADDRESS becomes KNOWN, what WAITS for it goes, in order, and it is WAITED for no more.");
         x.echo(0, far(4), 0, 32);
         Wire.frame(x, 0, Wire.find(2, 44, far(4), A1));
         Due.is("there is room for a fourth again", 2, () -> Wire.rows(x, 0, 0));
@@ -326,7 +328,7 @@ public final class BoundsPacketTest {
         y.route(0, 0, 0, 2, 1);
         Due.is("2 is no TUNNEL", 256 + 201, () -> y.way(0, 0, 7));
         longestNext();
-        Due.sentence("KIND 0: TO), and the PORT (0 to 47; 200 + i: TUNNEL i); -1: none. IllegalStateException: a BRIDGE.");
+        Due.sentence("256 times NEXT (without a sign; KIND 0: TO), and the PORT (0 to 47; 200 + i: TUNNEL i); -1: none. IllegalStateException: a BRIDGE.");
         Due.missing("NODE 3", () -> x.way(3, 0, 0));
         Due.missing("NODE -1", () -> x.way(-1, 0, 0));
         Due.state("a BRIDGE", () -> x.way(2, 0, 0));
@@ -385,6 +387,7 @@ public final class BoundsPacketTest {
         int used = calls;
         Due.is("within 512 calls", 1, () -> used < 500 ? 1 : 0);
         Due.is("more than one in a UNIT", 1, () -> step > 60 ? 1 : 0);
+        Due.sentence("Without a WAY it is UNREACHABLE 0.");
         Due.sentence("(by THE WAY with FROM 0 for s; without a WAY, or into a TUNNEL, that of the least PORT with one, or 0), if not said otherwise.");
         InternetHouse y = new InternetHouse();
         y.node(0);
@@ -546,6 +549,26 @@ public final class BoundsPacketTest {
         Due.is("a second last one, longer", 10, () -> overlaps(at(1, false, 8), at(3, false, 8)));
         Due.is("dropped: the rest begins anew", 10, () -> overlaps(at(0, true, 8), at(0, true, 8), at(1, false, 8)));
         Due.is("dropped: all of it once more", 11, () -> overlaps(at(0, true, 8), at(0, true, 8), at(0, true, 8), at(1, false, 8)));
+        Due.sentence("If all bytes up to the end of the last piece are there, it is TAKEN as one, with the first 18 bytes of the piece of PLACE 0 (LENGTH, PIECE 0).");
+        byte[][] parts = {at(0, true, 8), at(1, true, 16), at(3, false, 1)};
+        for (int i = 0; i < 6; i++) {
+            int a = i / 2;
+            int b = (a + 1 + i % 2) % 3;
+            Due.is("two of three", 0, () -> overlaps(parts[a], parts[b]));
+            Due.is("in any order", 1, () -> overlaps(parts[a], parts[b], parts[3 - a - b]));
+        }
+        InternetHouse whole = Wire.pair(0);
+        Wire.known(whole, 0, A1, A2, 5);
+        whole.run(2);
+        byte[] gram = Due.datagram(9, 5, new byte[9]);
+        Due.inject(whole, 0, Due.packet(17, 3, 7, 1, A2, A1, java.util.Arrays.copyOfRange(gram, 8, 17)));
+        Due.inject(whole, 0, Due.packet(17, 4, 7, 128, A2, A1, Wire.cut(gram, 8)));
+        whole.run(1);
+        byte[] told = Wire.data(whole, 0, 0);
+        Due.is("UNREACHABLE 3 of it", 303, () -> 100 * told[0] + told[1]);
+        Due.is("LENGTH", 18 + 17, () -> told[8 + 2]);
+        Due.is("HOPS of the piece of PLACE 0", 4, () -> told[8 + 3]);
+        Due.is("PIECE 0", 0, () -> told[8 + 6]);
         Due.sentence("TAKEN pieces (MORE, or a PLACE above 0) are JOINED: by FROM, TO, NAME, PROTOCOL, at most 4 JOININGS in a NODE (for a fifth the one begun first is dropped);");
         InternetHouse x = Wire.pair(0);
         for (int i = 0; i < 4; i++) {

@@ -81,6 +81,7 @@ public final class BoundsSocketTest {
         Due.sentence("SOCKETS 0, 1, .., at most 32 in all: of a HOST or ROUTER, a KIND (0 DATAGRAMS, 1 a STREAM that calls, 2 one that LISTENS), a port (1 to 65535).");
         Due.missing("NODE 3", () -> x.socket(3, 0, 1));
         Due.missing("NODE before KIND", () -> x.socket(-1, 3, 1));
+        Due.sentence("IllegalArgumentException: kind, port.");
         Due.argument("KIND -1", () -> x.socket(0, -1, 1));
         Due.argument("KIND 3", () -> x.socket(0, 3, 1));
         Due.argument("port -1", () -> x.socket(0, 0, -1));
@@ -189,6 +190,7 @@ public final class BoundsSocketTest {
             Due.inject(y, 0, quote(c[0], c[1], mine));
             Due.is("TYPE " + c[0] + ", CODE " + c[1], c[2], () -> y.state(0, 1));
         }
+        Due.sentence("a DATAGRAM, STREAM (22 bytes or more): see there.");
         Due.inject(y, 0, quote(3, 0, Wire.cut(mine, 21)));
         Due.is("21 bytes are quoted", 320, () -> y.state(0, 1));
         Due.inject(y, 0, quote(3, 0, Due.packet(17, 9, 0, 0, A1, A2, Due.datagram(8, 9, NONE))));
@@ -199,6 +201,7 @@ public final class BoundsSocketTest {
         Due.feed(y, new byte[101]);
         Due.missing("SOCKET 1", () -> y.write(1));
         Due.missing("SOCKET -1", () -> y.write(-1));
+        Due.sentence("IllegalArgumentException: more than 100 for a DATAGRAM. IllegalStateException: not such, not connected, closed.");
         Due.argument("101, before: not connected", () -> y.write(0));
         Due.is("the TAPE stays", 101, () -> Wire.tape(y));
         y.end(100);
@@ -422,6 +425,10 @@ public final class BoundsSocketTest {
         Due.is("not wanted: its ACK is nothing", 48, () -> x.state(C, 9));
         in(x, RCV + 399, UNA + 48, ACK, 400, NONE);
         Due.is("wanted: its ACK counts", 0, () -> x.state(C, 9));
+        Due.sentence("If l is above 0 an ACK is sent.");
+        Due.said("1 byte", takes(0, 0, ACK, 1), "1 4 1");
+        Due.said("a FIN", takes(0, 0, ACK | FIN, 0), "0 7 1");
+        Due.said("neither", takes(0, 0, ACK, 0), "0 4 0");
         Due.sentence("RST: o is 0: it FAILS 3; else an ACK is sent. SYN: an ACK is sent; nothing more. Without ACK: nothing more.");
         Due.said("RST, o 0", takes(5, 0, RST, 0), "5 0 0");
         Due.said("RST, o 1", takes(5, 1, RST, 0), "5 4 1");
@@ -528,7 +535,7 @@ public final class BoundsSocketTest {
         Due.is("RECOVER is not BEHIND 96: CARE is EDGE", 96, () -> y.state(C, 4));
         Due.is("DUPS", 0, () -> y.state(C, 16));
         recovery();
-        Due.sentence("it is more by the lesser one of what was thanked for and 48, if it is below EDGE, else by 2304 / CARE (1 at least); DUPS 0; 400 at most.");
+        Due.sentence("if DUPS is below 3: it is more by the lesser one of what was thanked for and 48, if it is below EDGE, else by 2304 / CARE (1 at least); DUPS 0; 400 at most.");
         InternetHouse z = open();
         write(z, C, 400);
         int una = UNA;
@@ -712,7 +719,7 @@ public final class BoundsSocketTest {
         }
         Due.is("half of FLIGHT", Math.max(96, flight / 2), () -> wide.state(C, 5));
         Due.is("it was above 192", 1, () -> flight > 192 ? 1 : 0);
-        Due.sentence("WAIT is S / 8 + the greater one of 1 and V, from 4 to 64.");
+        Due.sentence("r is TIME less its beginning: the first one: S 8 r, V 2 r; else e is r - S / 8, S e more, V (size of e) - V / 4 more; (cut off); WAIT is S / 8 + the greater one of 1 and V, from 4 to 64.");
         InternetHouse u = open();
         int next = UNA;
         int[] trips = {0, 0, 1, 3, 2, 4, 7, 12, 22, 40, 60, 60, 63, 0, 1, 5, 30};
@@ -773,6 +780,7 @@ public final class BoundsSocketTest {
         InternetHouse x = open();
         Due.missing("SOCKET 2", () -> x.read(2, 1));
         Due.missing("SOCKET before n", () -> x.read(-1, 0));
+        Due.sentence("IllegalArgumentException: n. IllegalStateException: KIND 2.");
         Due.argument("0", () -> x.read(C, 0));
         Due.argument("201", () -> x.read(C, 201));
         Due.argument("n before the KIND", () -> x.read(0, 0));

@@ -844,6 +844,7 @@ public final class BoundsWaysTest {
     private static void maps() {
         InternetHouse x = Wire.chain(148);
         x.node(1);
+        Due.sentence("how many LINES a PACKET with FROM the least PORT's ADDRESS of NODE a, TO an ADDRESS b, goes over till a NODE that has b, by THE WAYS, as if all ADDRESSES were FOUND");
         Due.sentence("0 if a has b; -1 if it does not come there in 32 such steps, or by a HOST, but a, or a TUNNEL. NoSuchElementException: also a BRIDGE.");
         Due.argument("what -1", () -> x.map(-1, 0, 0));
         Due.argument("what 4", () -> x.map(4, 0, 0));
