@@ -363,11 +363,11 @@ public final class BoundsNamesTest {
         Due.sentence("\"zone\" NAME N (its LIFE, 1 to 500; each NAME once), then its ROWS: NAME (whole; \"*\" for the ROOT's, or \"*.\" before one of at most 3 LABELS, which must be in the ZONE) N KIND VALUE, N the LIFE, 1 to 500, KIND being a (A), ns (NAME), alias (NAME), text (N to 65535).");
         String[] right = {"zone a 1", "zone a 500", "zone . 5", "zone a.b.c.d 5", "zone b 5\nb 1 text 0", "zone b 5\na.b 500 text 65535",
             "zone . 5\n* 5 text 1", "zone . 5\n*.a.b.c 5 text 1", "zone b 5\n*.b 5 text 1", "zone b 5\n*.a.b 5 a 255.255.255.255", "zone b 5\nb 5 ns .",
-            "zone b 5\nb 5 alias a.b.c.d", "zone . 5\n. 5 a 0.0.0.0", "zone zone 5\nzone 5 text 1"};
-        int[] many = {0, 0, 0, 0, 1, 1, 1, 1, 1, 1, 1, 1, 1, -1};
+            "zone b 5\nb 5 alias a.b.c.d", "zone . 5\n. 5 a 0.0.0.0"};
+        int[] many = {0, 0, 0, 0, 1, 1, 1, 1, 1, 1, 1, 1, 1};
         for (int i = 0; i < right.length; i++) {
             int k = i;
-            Due.is(right[k], many[k] < 0 ? -2 : many[k], () -> Wire.load(x, 0, 2, right[k]));
+            Due.is(right[k], many[k], () -> Wire.load(x, 0, 2, right[k]));
         }
         String[] wrong = {"zone b 0", "zone b 501", "zone b", "zone b 5 5", "zone 5", "zone *.b 5", "zone a 5", "zone abcdefghi 5", "zone b.c.d.e.f 5",
             "a 0 text 5", "a 501 text 5", "a 5 text 65536", "a 5 text", "a 5 text -1", "a 5 a 1.2.3", "a 5 a 1.2.3.256", "a 5 b 1.2.3.4", "a 5 ns *.a",

@@ -4,7 +4,8 @@ import java.util.Random;
 /**
  * Random runs of up to 512 calls: no call may throw anything but what its promise names, audit is
  * always 0, and the same calls always give the same answers: a second object, that was used for another
- * run before and is begun anew, runs beside the first.
+ * run before and is begun anew, runs beside the first. A third one is spared all calls that throw, and must
+ * answer all others the same: a call that throws changes nothing.
  */
 public final class RandomRuns {
     private static final String[] TEXTS = {
@@ -18,6 +19,7 @@ public final class RandomRuns {
     private final Random r;
     private final InternetHouse x = new InternetHouse();
     private final InternetHouse y;
+    private final InternetHouse z = new InternetHouse();
     private int nodes;
     private static long digest;
 
@@ -33,6 +35,9 @@ public final class RandomRuns {
         }
         if (x.audit() != 0) {
             throw new RuntimeException("audit");
+        }
+        if (!Snapshot.of(x).equals(Snapshot.of(z))) {
+            throw new RuntimeException("a call that threw changed something");
         }
     }
 
@@ -145,7 +150,8 @@ public final class RandomRuns {
     }
 
     private void feed(byte[] b) {
-        if (feedAll(x, b) != feedAll(y, b)) {
+        int n = feedAll(x, b);
+        if (n != feedAll(y, b) || n != feedAll(z, b)) {
             throw new RuntimeException("feed differs");
         }
     }
@@ -220,6 +226,10 @@ public final class RandomRuns {
         if (g != answer(y, m, a)) {
             throw new RuntimeException("call " + m + " differs");
         }
+        boolean threw = g < Long.MIN_VALUE + 3;
+        if (!threw && g != answer(z, m, a)) {
+            throw new RuntimeException("call " + m + " differs without those that threw");
+        }
         digest = 31 * digest + g;
         return g;
     }
@@ -228,6 +238,7 @@ public final class RandomRuns {
         int seed = r.nextInt();
         x.begin(seed);
         y.begin(seed);
+        z.begin(seed);
         nodes = 2 + r.nextInt(10);
         int bias = r.nextInt(4);
         for (int i = 0; i < nodes; i++) {
