@@ -359,6 +359,25 @@ public final class BoundsLeftTest {
         Due.inject(x, 3, hello(c(3, 2), 0, 7, 0));
         x.run(1);
         Due.said("it comes to HEAR again", rowsTold(x, 3).substring(0, 8), "0 5 0 0 ");
+        Due.sentence("who OWES THANKS for a ROW that is in the BOOK with this NUMBER, sent 10 UNITS ago or more, gets it anew");
+        InternetHouse v = wheel(2);
+        v.set(0, 7, 1, 1, 0);
+        v.set(0, 7, 3, 2, 0);
+        v.set(0, 6, 1, 0, 0);
+        for (int p = 1; p < 4; p += 2) {
+            Due.inject(v, p, hello(c(p, 2), (p + 1) / 2, 5 + p, 0));
+        }
+        v.run(5);
+        for (int p = 1; p < 4; p += 2) {
+            Due.inject(v, p, hello(c(p, 2), (p + 1) / 2, 5 + p, 0));
+            v.capture(p, 1);
+        }
+        v.run(5);
+        Due.said("sent at 3: 9 UNITS, PORT 1", rowsTold(v, 1), "");
+        Due.said("sent at 3: 9 UNITS, PORT 3", rowsTold(v, 3), "");
+        v.run(2);
+        Due.said("10 UNITS, PORT 1 of AREA 1", rowsTold(v, 1), "0 ");
+        Due.said("10 UNITS, PORT 3 of AREA 2", rowsTold(v, 3), "0 ");
         Due.sentence("LINKS: each ID that HEARS on PORTS of the AREA, with the least COST of these (rising IDS); NETS of KIND 0 of its PORTS there, with the PORT's COST, mark 0 (by PORTS);");
         InternetHouse y = wheel(2);
         for (int p = 0; p < 4; p++) {
@@ -466,6 +485,36 @@ public final class BoundsLeftTest {
         x.run(1);
         byte[] tell = Wire.tell(3, net(2), 16, c(0, 1), 0, 0, 100, 0, 1);
         Due.is("then TELL of the other", 1, () -> java.util.Arrays.equals(tell, Wire.data(x, 0, 0)) ? 1 : 0);
+        InternetHouse y = wheel(2);
+        y.set(0, 8, 1, 0, 0);
+        y.set(0, 9, c(0, 2), 5, 0);
+        outer(y, 0, Wire.open(0, 5, 1));
+        int[] bits = {18, 16, 17};
+        for (int i = 0; i < 3; i++) {
+            y.set(0, 10, net(1), bits[i], 1);
+            told(y, Wire.tell(1 + i, net(1), bits[i], c(0, 1), 0, 0, 100, 0, 1));
+        }
+        y.set(0, 10, net(1), 18, 0);
+        y.set(0, 10, net(1), 16, 0);
+        Wire.load(y, 0, 1, "out go med 5");
+        told(y, Wire.takeBack(4, net(1), 16));
+        told(y, Wire.tell(5, net(1), 17, c(0, 1), 0, 5, 100, 0, 1));
+        told(y, Wire.takeBack(6, net(1), 18));
+        Wire.load(y, 0, 1, "out refuse");
+        told(y, Wire.takeBack(7, net(1), 17));
+        Due.is("nothing is TOLD any more", 0, () -> y.look(0, 6, 0, 4));
+    }
+
+    /** Within 3 UNITS this, and no TELL or TAKE BACK before, is sent on PORT 0; then its THANKS come. */
+    private static void told(InternetHouse x, byte[] data) {
+        byte[] got = NONE;
+        for (int i = 0; i < 3 && got.length == 0; i++) {
+            x.run(1);
+            byte[] d = Wire.data(x, 0, 0);
+            got = d.length > 7 && Wire.u16(d, 1) == Wire.u16(data, 1) ? d : NONE;
+        }
+        Due.said("in order", java.util.Arrays.toString(got), java.util.Arrays.toString(data));
+        outer(x, 0, Due.bytes(5, data[1], data[2]));
     }
 
     private static final int UNA = (Wire.draw(0) >>> 16 << 16 | Wire.draw(Wire.draw(0)) >>> 16) + 1;
