@@ -3608,7 +3608,7 @@ public final class InternetHouse {
             }
         }
 
-        /** The COSTS of all LINKS of a BOOK; -1 where there is none. */
+        /** The COSTS of all LINKS of a BOOK (of one told twice the lesser); -1 where there is none. */
         private void readPrices(int area) {
             for (int i = 0; i < 144; i++) {
                 price[i] = -1;
@@ -3618,8 +3618,9 @@ public final class InternetHouse {
                 int links = row == null ? 0 : row.u8(4);
                 for (int k = 0; k < links; k++) {
                     int b = row.u8(5 + 2 * k);
-                    if (b < 12 && price[a * 12 + b] < 0) {
-                        price[a * 12 + b] = row.u8(6 + 2 * k);
+                    int c = row.u8(6 + 2 * k);
+                    if (b < 12 && (price[a * 12 + b] < 0 || c < price[a * 12 + b])) {
+                        price[a * 12 + b] = c;
                     }
                 }
             }

@@ -417,6 +417,11 @@ public final class BoundsWaysTest {
         Due.is("of NEIGHBOUR 5: 10 + 0 + 2", 12, () -> v.look(0, 5, 0, 2));
         Due.is("of 7 by 8: 10 + 4 + 5, not 10 + 20", 19, () -> v.look(0, 5, 1, 2));
         Due.is("of 8: 10 + 4", 14, () -> v.look(0, 5, 2, 2));
+        InternetHouse t = linked();
+        Due.inject(t, 0, Wire.linkRow(5, 1, new int[] {0, 3, 7, 20, 7, 6, 7, 9}));
+        Due.inject(t, 0, Wire.linkRow(7, 1, new int[] {5, 1}, Wire.net(net(7), 16, 0, 0)));
+        t.run(1);
+        Due.is("a LINK told with several COSTS: the least sum", 16, () -> t.look(0, 5, 0, 2));
     }
 
     private static InternetHouse outer() {
