@@ -5679,25 +5679,34 @@ public final class InternetHouse {
         return many;
     }
 
-    /** A LINE of ZONES: a ZONE, or a ROW of the last one. */
+    /** A LINE of ZONES: a ZONE, or a ROW of the last one (told apart by how many WORDS: "zone" is a NAME, too). */
     private boolean zonesLine() {
-        if (isWord(0, "zone")) {
-            int z = words == 3 ? readZones.insert(readZones.count) : -1;
-            int life = numberWord(2, 500);
-            if (z < 0 || life < 1 || nameWord(1, false, readZones, z, 0) < 0) {
+        if (words == 3) {
+            return isWord(0, "zone") && zoneLine();
+        }
+        return words == 4 && zoneRow();
+    }
+
+    private boolean zoneLine() {
+        int z = readZones.insert(readZones.count);
+        int life = numberWord(2, 500);
+        if (z < 0 || life < 1 || nameWord(1, false, readZones, z, 0) < 0) {
+            return false;
+        }
+        readZones.put(z, 4, life);
+        for (int i = 0; i < z; i++) {
+            if (Names.same(readZones, i, 0, readZones, z, 0)) {
                 return false;
             }
-            readZones.put(z, 4, life);
-            for (int i = 0; i < z; i++) {
-                if (Names.same(readZones, i, 0, readZones, z, 0)) {
-                    return false;
-                }
-            }
-            return true;
         }
+        return true;
+    }
+
+    /** NAME, LIFE, KIND, VALUE. */
+    private boolean zoneRow() {
         int z = readZones.count - 1;
         int life = numberWord(1, 500);
-        int r = z < 0 || words != 4 || life < 1 ? -1 : newRow(24);
+        int r = z < 0 || life < 1 ? -1 : newRow(24);
         if (r < 0 || nameWord(0, true, readRows, r, 0) < 0 || !Names.isIn(readRows, r, 0, readZones, z, 0)) {
             return false;
         }

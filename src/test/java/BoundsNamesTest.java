@@ -376,6 +376,7 @@ public final class BoundsNamesTest {
         for (String s : wrong) {
             Due.is(s, -2, () -> Wire.load(x, 0, 2, "zone a 5\n" + s + "\nno"));
         }
+        zoneAsName(x);
         Due.is("each NAME once", -3, () -> Wire.load(x, 0, 2, "zone a 5\nzone b 5\nzone a 6"));
         Due.is("a ROW before its ZONE", -1, () -> Wire.load(x, 0, 2, "a 5 text 1\nzone a 5"));
         Due.is("a ROW of the ZONE before", -3, () -> Wire.load(x, 0, 2, "zone a 5\nzone b 5\na 5 text 1"));
@@ -433,6 +434,25 @@ public final class BoundsNamesTest {
         Due.said("* is for one LABEL alone", told(stars, 1, "y.z"), "1 1 11");
         Due.said("the ROOT has none of its own, but below", told(stars, 1, "."), "2 1 11");
         Due.said("the ROOT alone", told("zone . 9", 1, "."), "1 1 11");
+    }
+
+    /** A LINE of four WORDS is a ROW, whatever its first WORD is (issue 19). */
+    private static void zoneAsName(InternetHouse x) {
+        String[] kinds = {"a 1.2.3.4", "ns zone", "alias zone.zone", "text 65535"};
+        for (String kind : kinds) {
+            Due.is("zone 9 " + kind, 1, () -> Wire.load(x, 0, 2, "zone . 5\nzone 9 " + kind));
+            Due.is("in the ZONE zone: " + kind, 2, () -> Wire.load(x, 0, 2, "zone zone 5\nzone 500 " + kind + "\na.zone 1 " + kind));
+        }
+        String[] wrong = {"zone 0 a 1.2.3.4", "zone 501 a 1.2.3.4", "zone b a 1.2.3.4", "zone 9 a 1.2.3", "zone 9 zone 1.2.3.4", "zone b 5 5",
+            "zone 9", "zone", "zone 9 a", "zone 9 a 1.2.3.4 5", "zone 9 ns *.a"};
+        for (String s : wrong) {
+            Due.is("below the ROOT: " + s, -2, () -> Wire.load(x, 0, 2, "zone . 5\n" + s + "\nno"));
+        }
+        Due.is("not in the ZONE a", -2, () -> Wire.load(x, 0, 2, "zone a 5\nzone 9 a 1.2.3.4"));
+        Due.is("before its ZONE", -1, () -> Wire.load(x, 0, 2, "zone 9 a 1.2.3.4\nzone . 5"));
+        Due.is("three WORDS are a ZONE", 1, () -> Wire.load(x, 0, 2, "zone . 5\nzone zone 5\nzone 5 a 1.2.3.4"));
+        Due.is("three WORDS, no ZONE", -2, () -> Wire.load(x, 0, 2, "zone . 5\nzonf a 5"));
+        Due.said("it is told", told("zone . 5\nzone 9 a 1.2.3.4", 1, "zone"), "0 1 17");
     }
 
     private int chance;
