@@ -4373,8 +4373,7 @@ public final class InternetHouse {
             v[TIMER] = -1;
         }
 
-        /** Whether it has its port for itself. */
-        /** One that came of a LISTEN one has been used from its first moment. */
+        /** Whether it has its port for itself. One that came of a LISTEN one has been used from its first moment. */
         boolean holdsPort() {
             return state != CLOSED || kind == 1 && !used;
         }
